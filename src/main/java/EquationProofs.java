@@ -1147,7 +1147,7 @@ public final class EquationProofs {
 
     /** Matches calls with rules, and terms with sides of laws; puts what they become in their place; works out. */
     private static final class Rewriter {
-        static final int FITS = 0, UNDEFINED = 1, WAITS = 2, MISSES = 3;
+        static final int FITS = 0, IS_UNDEFINED = 1, WAITS = 2, MISSES = 3;
         static final int DONE = 0, NO_STEP = 1, TOO_GREAT = 2;
 
         final Program program;
@@ -1166,12 +1166,12 @@ public final class EquationProofs {
             outcome = undefined;
         }
 
-        /** Matches a call: it WAITS at waitsAt, or FITS or is UNDEFINED, and outcome is what it becomes. */
+        /** Matches a call: it WAITS at waitsAt, or FITS or IS_UNDEFINED, and outcome is what it becomes. */
         int matchCall(Term term, int at) {
             outcome = undefined;
             int code = term.codeAt(at);
             if (Term.kindOf(code) != Term.FUNCTION) {
-                return UNDEFINED;
+                return IS_UNDEFINED;
             }
             int function = Term.indexOf(code);
             for (int r = 0; r < program.ruleCount; r++) {
@@ -1184,7 +1184,7 @@ public final class EquationProofs {
                     return how;
                 }
             }
-            return UNDEFINED;
+            return IS_UNDEFINED;
         }
 
         private int matchRule(Term left, Term term, int at) {
@@ -1199,7 +1199,7 @@ public final class EquationProofs {
                 } else if (code == wanted) {
                     here++;
                 } else if (code == Term.UNDEFINED) {
-                    return UNDEFINED;
+                    return IS_UNDEFINED;
                 } else if (Term.kindOf(code) != Term.CONSTRUCTOR) {
                     waitsAt = here;
                     return WAITS;
