@@ -1415,17 +1415,15 @@ public final class EquationProofs {
 
         private int countRows(Equation law, int size) {
             int rows = 1;
-            boolean none = false;
             for (int v = 0; v < law.variables && v < LAW_VARIABLES; v++) {
                 int total = 0;
                 for (int n = 1; n <= size; n++) {
                     total += valuesOf(law.types[v], n);
                 }
                 totals[v] = Math.min(total, ENOUGH);
-                none = none || total == 0;
                 rows = Math.min(rows * totals[v], ENOUGH);
             }
-            return none ? 0 : rows;
+            return rows;
         }
 
         private void setValues(Equation law, int row) {

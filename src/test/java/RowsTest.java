@@ -148,6 +148,7 @@ public final class RowsTest {
         x.begin(4, true);
         Check.due("fst of two that are not alike", x.law(6, false, 0, 0), WRONG);
         Check.due("a law that is proved, in a proof of its own", x.law(4, false, 0, 0), 1);
+        typesOfLaws();
         x.begin(7, true);
         Check.due("of another type", x.law(5, true, 0, 0), WRONG);
         Check.due("of its type", x.law(5, true, 0, 1), 1);
@@ -157,6 +158,17 @@ public final class RowsTest {
         Check.due("_ is of any type", x.law(5, true, 0, 1), 1);
         goal(x, 0, "z (id _) = T");
         growing(x);
+    }
+
+    private static void typesOfLaws() {
+        EquationProofs x = Check.with("data B=T|F;data N=Z|S N;fun z:B>N;fun id:N>N;rule id x=x;law a:id x=x;"
+                + "law b:z T=S Z;");
+        x.begin(0, true);
+        x.search(9);
+        x.begin(1, true);
+        Check.due("of the type 0", x.law(0, true, 0, 1), WRONG);
+        Check.due("of the type 1", x.law(0, true, 0, 0), 1);
+        goal(x, 0, "id (z T) = S Z");
     }
 
     private static void growing(EquationProofs x) {
@@ -223,7 +235,28 @@ public final class RowsTest {
         Check.due("below 0", x.induction(-1), WRONG);
         Check.due("far beyond", x.induction(Integer.MAX_VALUE), WRONG);
         Check.due("another one", x.induction(2), 3);
-        goal(x, 1, "add (add v0 Z) (S v4) = add v0 (add Z (S v4))");
+        x.begin(3, false);
+        x.induction(0);
+        Check.due("number 0 is gone", x.induction(0), WRONG);
+        x.begin(3, false);
+        x.induction(2);
+        goal(x, 1, "add (add v0 v1) (S v3) = add v0 (add v1 (S v3))");
+        x = Check.with("data W=V W;fun k:W;rule k=V k;law a:k=x;law b:V k=_;");
+        x.begin(0, true);
+        Check.due("of a variable that is a whole side", x.induction(0), 2);
+        goal(x, 1, "k = V v1");
+        x.begin(0, true);
+        Check.due("cases of it", x.cases(1, 0), 2);
+        goal(x, 0, "k = _");
+        goal(x, 1, "k = V v1");
+        x.begin(0, false);
+        Check.due("induction where no value is finite", x.induction(0), 1);
+        x.unfold(0, 0);
+        Check.due("its hypothesis", x.hypothesis(0, false, 0, 1), 1);
+        Check.due("k is all finite values", x.same(), 0);
+        x.begin(1, false);
+        Check.due("a right side with a variable more", x.law(0, false, 0, 1), WRONG);
+        Check.due("back it is another variable alone, of what is not sure", x.law(0, true, 0, 1), WRONG);
         trees();
         inductingRoom();
     }
@@ -259,6 +292,12 @@ public final class RowsTest {
         Check.due("12 goals", x.induction(0), 12);
         Check.due("12 goals more of a call", x.cases(0, 0), ROOM);
         Check.due("rows", x.count(6), 1);
+        x = Check.with(twelve + "data B=T|F;fun p:B>K>K;law b:p x y=p x y;");
+        x.begin(1, false);
+        Check.due("2 goals", x.induction(0), 2);
+        Check.due("one with 12 more", x.induction(1), ROOM);
+        x.same();
+        Check.due("alone, 12", x.induction(1), 12);
         EquationProofs y = Check.with("data Q=U|C Q Q Q;data D=D1|D2 D;fun w:Q>Q>Q;fun e:D>Q;"
                 + "law a:w x (w y (w z (e u)))=w x (w y (w z (e u)));");
         y.begin(0, false);
@@ -489,6 +528,26 @@ public final class RowsTest {
         Check.due("have no parts", x.parts(), WRONG);
         Check.due("are the same", x.same(), 0);
         partsRoom();
+        partsKeep();
+    }
+
+    private static void partsKeep() {
+        EquationProofs x = Check.with("data N=Z|S N;data P=P N N;fun w:N>N>P;rule w x y=P x y;law a:w x y=P x y;");
+        x.begin(0, false);
+        x.induction(0);
+        x.unfold(0, 0);
+        x.same();
+        x.unfold(0, 0);
+        Check.due("parts of the step", x.parts(), 2);
+        goal(x, 0, "S v2 = S v2");
+        Check.due("the first has the hypothesis", x.count(7), 1);
+        hypothesis(x, 0, "w v2 f1 = P v2 f1");
+        Check.due("and its fixed variable", x.induction(2), WRONG);
+        x.same();
+        goal(x, 0, "v1 = v1");
+        Check.due("the second has it, too", x.count(7), 1);
+        hypothesis(x, 0, "w v2 f1 = P v2 f1");
+        Check.due("and one that is not fixed", x.induction(1), 2);
     }
 
     private static void partsRoom() {

@@ -75,6 +75,21 @@ public final class SearchTest {
         x.begin(4, true);
         Check.due("not to be proved", x.search(500), 0);
         partsAndHypotheses();
+        firstThatWaits();
+    }
+
+    private static void firstThatWaits() {
+        String text = "data N=Z|S N;data B=T|F;data K=A1|A2|A3;fun c:N>N>N;rule c Z Z=Z;fun f:B>N;rule f T=Z;"
+                + "rule f F=Z;fun g:K>N;rule g A1=Z;rule g A2=Z;rule g A3=Z;";
+        EquationProofs x = Check.with(text + "law a:c (f x) (g y)=Z;law b:c (g y) (f x)=Z;");
+        x.begin(0, false);
+        // x, then twice: unfold, y, three times two unfold and same.
+        Check.due("the left one first", x.search(500), 1 + 2 * (2 + 3 * 3));
+        x.begin(1, false);
+        Check.due("the left one first, of three", x.search(500), 1 + 3 * (2 + 2 * 3));
+        x = Check.with(text + "law d:c Z (f x)=c (g y) Z;");
+        x.begin(0, false);
+        Check.due("side 0 first", x.search(500), 1 + 2 * (3 + 3 * 3));
     }
 
     private static void partsAndHypotheses() {

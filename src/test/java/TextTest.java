@@ -34,6 +34,7 @@ public final class TextTest {
         fine("data Q=Q1 Q Q Q;");
         fine("fun h:N>N>N>N>N;");
         fine("fun datas:N;rule datas=k;");
+        fine("fun x09AzB:N;rule x09AzB=k;data Q0=A0|B9;");
         // A type, a constructor, a function and a law may have one name.
         fine("data T=N T;fun a:T;law a:a=a;");
     }
@@ -74,6 +75,7 @@ public final class TextTest {
         fault("rule f (S)=Z;", 9, 2);
         fault("rule f S=Z;", 7, 2);
         fault("rule f k=Z;", 7, 2);
+        fault("rule f f=Z;", 7, 2);
         fault("rule f x=S;", 10, 2);
         fault("rule f x=S x x;", 13, 2);
         fault("rule f x=S S x;", 11, 2);

@@ -50,6 +50,8 @@ public final class TrialTest {
         // The second argument's place counts behind the first one's.
         first(tree + "rule p (D A (D x y))=A;rule p (D A (B (B x)))=A;rule p (D (B x) (B y))=A;rule p x=B A;"
                 + "law a:p x=B A;", 6, false, "D A (B (B A))");
+        // The first constructor of all may have arguments, too.
+        first("data W=B W|A;fun p:W>W;rule p (B (B x))=A;rule p x=B A;law a:p x=B A;", 6, false, "B (B A)");
         // With what is undefined, that is ahead of the constructors.
         first(tree + "law a:B x=A;", 6, true, "_");
         first(tree + "rule p (B x)=B x;law a:p x=_;", 6, true, "B _");
@@ -87,7 +89,7 @@ public final class TrialTest {
 
     private static void rowsAtMost() {
         String base = Check.NUMBERS + "data O=O1;data W=V W;data Q=U|C Q Q Q;fun o:O>N>N;rule o x y=y;fun w:W>Q>N;"
-                + "rule w x y=Z;";
+                + "rule w x y=S Z;";
         EquationProofs x = Check.with(base + "law a:add x (add y z)=add (add x y) z;"
                 + "law b:add x (add y (add z u))=add (add (add x y) z) u;"
                 + "law c:o p (add x (add y z))=add (add x y) z;law d:w x y=Z;law e:C x y z=C x y z;");
@@ -99,6 +101,12 @@ public final class TrialTest {
         Check.due("2 * 12 * 12 * 12 rows", x.test(2, 6, true), EquationProofs.ROOM);
         Check.due("no value, no row", x.test(3, 6, false), 0);
         Check.due("10 * 10 * 10 rows of Q", x.test(4, 6, true), 0);
+        String ten = "data K=A0|A1|A2|A3|A4|A5|A6|A7|A8|A9;";
+        Check.due("2000 rows of one variable",
+                Check.with(ten + "data X=C K K K|D K K K;fun f:X>X;law a:f x=_;").test(0, 4, false), 0);
+        Check.due("2001 rows of one variable",
+                Check.with(ten + "data X=U|C K K K|D K K K;fun f:X>X;law a:f x=_;").test(0, 4, false),
+                EquationProofs.ROOM);
         EquationProofs many = Check.with("data X=X1|X2 X|X3 X X;data P=P X X X;law a:P x y z=P x y z;law b:X3 x y=X2 x;"
                 + "law c:X2 x=x;");
         Check.due("188 * 188 * 188 rows", many.test(0, 6, true), EquationProofs.ROOM);
