@@ -522,9 +522,11 @@ public final class EquationProofs {
             return true;
         }
 
-        boolean copy(Term from) {
-            size = 0;
-            return append(from, 0, from.size);
+        /** Becomes another term; all that is copied so has room here. */
+        void copy(Term from) {
+            int names = Math.min(from.size, codes.length);
+            System.arraycopy(from.codes, 0, codes, 0, names);
+            size = names;
         }
 
         /** Are the codes from a position on all those of another term? */
@@ -1212,6 +1214,11 @@ public final class EquationProofs {
 
         /** Is the term at a position a pattern with something in place of its free variables (a bit each)? */
         boolean matchSide(Term pattern, long free, Term term, int at) {
+            int outermost = pattern.codeAt(0);
+            // Most places fail here, and need not make bound ready.
+            if (Term.kindOf(outermost) != Term.VARIABLE && outermost != term.codeAt(at)) {
+                return false;
+            }
             for (int v = 0; v < bound.length; v++) {
                 bound[v] = -1;
             }
@@ -1600,11 +1607,13 @@ public final class EquationProofs {
         long free;
         long limited;
         int[] types;
-        // What a split is about: a variable, or a call (then splitVariable is -1), and what comes in its place.
+        // What a split is about: a variable, or a call (then splitVariable is -1), and what comes in its place;
+        // the variables that are free in the hypotheses of an induction.
         final Term target = new Term(GOAL_NAMES);
         final Term instead = new Term(1 + CONSTRUCTOR_ARGUMENTS);
         int splitVariable;
         int splitType;
+        long splitFree;
         boolean inducing;
         boolean newFixed;
         boolean newSure;
@@ -1730,10 +1739,12 @@ public final class EquationProofs {
 
         int inductOver(int v) {
             Goal goal = proof.goals[0];
-            if (v < 0 || v >= proof.variables || (goal.variables() >> v & 1) == 0 || goal.isFixed(v)) {
+            long present = goal.variables();
+            if (v < 0 || v >= proof.variables || (present >> v & 1) == 0 || goal.isFixed(v)) {
                 return WRONG;
             }
             aimAtVariable(v);
+            splitFree = present & ~goal.fixed & ~(1L << v);
             inducing = true;
             newFixed = true;
             return split();
@@ -1826,7 +1837,6 @@ public final class EquationProofs {
 
         private boolean addInductionHypotheses(Goal goal, int next) {
             Goal old = proof.goals[0];
-            long freed = old.variables() & ~old.fixed & ~(1L << splitVariable);
             int stop = next + instead.size - 1;
             for (int v = next; v < stop && v < proof.types.length; v++) {
                 if (proof.types[v] == splitType) {
@@ -1838,7 +1848,7 @@ public final class EquationProofs {
                             || !goal.terms[3 + 2 * k].copyReplacing(old.terms[1], target, rewritten)) {
                         return false;
                     }
-                    goal.free[k] = freed;
+                    goal.free[k] = splitFree;
                     goal.hypotheses++;
                 }
             }
