@@ -3,10 +3,16 @@ final class Check {
     static final String NUMBERS =
             "data N=Z|S N;fun add:N>N>N;rule add Z y=y;rule add (S x) y=S (add x y);";
 
+    private static String sentence = "";
     private static int passed = 0;
     private static int failed = 0;
 
     private Check() {
+    }
+
+    /** The document's sentence that the next answers are about. */
+    static void sentence(String text) {
+        sentence = text + ": ";
     }
 
     static void due(String what, long got, long want) {
@@ -22,7 +28,7 @@ final class Check {
             passed++;
         } else {
             failed++;
-            System.out.println(what + " answered " + got + ", due is " + want);
+            System.out.println(sentence + what + " answered " + got + ", due is " + want);
         }
     }
 
@@ -34,7 +40,7 @@ final class Check {
     }
 
     /** Makes a text the whole tape; it has room for texts of 1000 bytes, too. */
-    static void tape(EquationProofs x, String text) {
+    static void tape(Counted x, String text) {
         x.end(0);
         for (int at = 0; at < text.length(); at += 20) {
             int[] numbers = new int[5];
@@ -47,19 +53,19 @@ final class Check {
         x.end(text.length());
     }
 
-    static int read(EquationProofs x, String text) {
+    static int read(Counted x, String text) {
         tape(x, text);
         return x.read();
     }
 
-    static int work(EquationProofs x, String text, int steps) {
+    static int work(Counted x, String text, int steps) {
         tape(x, text);
         return x.work(steps);
     }
 
     /** An object that has read a text; the text has no fault. */
-    static EquationProofs with(String text) {
-        EquationProofs x = new EquationProofs();
+    static Counted with(String text) {
+        Counted x = new Counted();
         int answer = read(x, text);
         if (answer < 0) {
             due("read of " + text + " has fault " + x.fault(), answer, 0);
@@ -67,24 +73,24 @@ final class Check {
         return x;
     }
 
-    static String printed(EquationProofs x) {
+    static String printed(Counted x) {
         StringBuilder text = new StringBuilder();
-        for (int i = 0; x.printed(i) >= 0; i++) {
-            text.append((char) x.printed(i));
+        for (int b = x.printed(0); b >= 0; b = x.printed(text.length())) {
+            text.append((char) b);
         }
         return text.toString();
     }
 
     /** Both sides of a goal, as they are printed. */
-    static String goal(EquationProofs x, int k) {
+    static String goal(Counted x, int k) {
         return side(x, x.show(k, 0)) + " = " + side(x, x.show(k, 1));
     }
 
-    static String hypothesis(EquationProofs x, int k) {
+    static String hypothesis(Counted x, int k) {
         return side(x, x.showHypothesis(k, 0)) + " = " + side(x, x.showHypothesis(k, 1));
     }
 
-    private static String side(EquationProofs x, int answer) {
+    private static String side(Counted x, int answer) {
         String text = printed(x);
         return answer == text.length() ? text : "answer " + answer;
     }
@@ -95,5 +101,17 @@ final class Check {
             all.append(text);
         }
         return all.toString();
+    }
+
+    /** An atom of so many names U, E (one argument) and C (three), with few ( in one another. */
+    static String atom(int names) {
+        if (names <= 1) {
+            return "U";
+        }
+        if (names <= 3) {
+            return "(E " + atom(names - 1) + ")";
+        }
+        int third = (names - 1) / 3;
+        return "(C " + atom(third) + " " + atom(third) + " " + atom(names - 1 - 2 * third) + ")";
     }
 }

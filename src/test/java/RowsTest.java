@@ -31,7 +31,7 @@ public final class RowsTest {
     }
 
     private static void beginning() {
-        EquationProofs x = Check.with(LAWS);
+        Counted x = Check.with(LAWS);
         Check.due("begin(4, true)", x.begin(4, true), UNKNOWN);
         Check.due("begin(-1, true)", x.begin(-1, true), UNKNOWN);
         Check.due("begin(3, true)", x.begin(3, true), 1);
@@ -46,7 +46,7 @@ public final class RowsTest {
     }
 
     private static void unfolding() {
-        EquationProofs x = Check.with(Check.NUMBERS + "fun un:N>N;fun lo:N;rule lo=S lo;"
+        Counted x = Check.with(Check.NUMBERS + "fun un:N>N;fun lo:N;rule lo=S lo;"
                 + "law a:add (S x) (add _ y)=S (un (add x Z));law b:lo=lo;");
         x.begin(0, true);
         Check.due("it waits for a variable", x.unfold(1, 11), WRONG);
@@ -77,7 +77,7 @@ public final class RowsTest {
         String eighteen = "(S (S " + sixteen + "))";
         String text = "data N=Z|S N|M N N N;fun m:N>N>N;rule m x y=M x x y;law a:m " + twenty + " " + nineteen
                 + "=Z;law b:m (S " + twenty + ") " + eighteen + "=Z;law c:m x y=M x x y;";
-        EquationProofs x = Check.with(text);
+        Counted x = Check.with(text);
         Check.due("forty names", x.about(0, 2), 40);
         x.begin(0, true);
         Check.due("60 names", x.unfold(0, 0), 1);
@@ -96,13 +96,13 @@ public final class RowsTest {
     }
 
     private static int searchOf(String text, int law) {
-        EquationProofs x = Check.with(text);
+        Counted x = Check.with(text);
         x.begin(law, true);
         return x.search(10);
     }
 
     private static void places() {
-        EquationProofs x = Check.with("data B=T|F;data N=Z|S N;fun q:B>N>B>N>N;rule q b x c y=y;"
+        Counted x = Check.with("data B=T|F;data N=Z|S N;fun q:B>N>B>N>N;rule q b x c y=y;"
                 + "law a:S (q T Z F (S (q T Z F (q F Z F Z))))=Z;");
         x.begin(0, true);
         int[] none = {2, 3, 5, 10, 15, 16, 19, 101, 111, 121, 142, 1415, 14141, 141441, 1111111111,
@@ -121,7 +121,7 @@ public final class RowsTest {
     }
 
     private static void usingLaws() {
-        EquationProofs x = Check.with(LAWS + "fun fst:N>N>N;rule fst x y=x;law e:fst x y=x;fun id:N>N;rule id x=x;"
+        Counted x = Check.with(LAWS + "fun fst:N>N>N;rule fst x y=x;law e:fst x y=x;fun id:N>N;rule id x=x;"
                 + "law f:id x=x;law g:fst x x=id x;data B=T|F;fun z:N>B;rule z Z=T;rule z (S x)=F;law h:z Z=T;");
         x.begin(3, true);
         Check.due("a law that is not proved", x.law(0, false, 0, 0), WRONG);
@@ -161,7 +161,7 @@ public final class RowsTest {
     }
 
     private static void typesOfLaws() {
-        EquationProofs x = Check.with("data B=T|F;data N=Z|S N;fun z:B>N;fun id:N>N;rule id x=x;law a:id x=x;"
+        Counted x = Check.with("data B=T|F;data N=Z|S N;fun z:B>N;fun id:N>N;rule id x=x;law a:id x=x;"
                 + "law b:z T=S Z;");
         x.begin(0, true);
         x.search(9);
@@ -171,7 +171,7 @@ public final class RowsTest {
         goal(x, 0, "id (z T) = S Z");
     }
 
-    private static void growing(EquationProofs x) {
+    private static void growing(Counted x) {
         x.begin(0, true);
         for (int names = 5; names <= 59; names += 2) {
             Check.due("back to " + names + " names", x.law(0, true, 0, 0), 1);
@@ -181,7 +181,7 @@ public final class RowsTest {
     }
 
     private static void sureLaws() {
-        EquationProofs x = Check.with(LAWS);
+        Counted x = Check.with(LAWS);
         x.begin(1, false);
         Check.due("search", x.search(50), 8);
         x.begin(0, true);
@@ -207,7 +207,7 @@ public final class RowsTest {
 
     /** What is undefined has any type, so that a law may bring a term of another type to its place. */
     private static void lawsOutOfPlace() {
-        EquationProofs x = Check.with("data B=T|F;data N=Z|S N;fun u:N;law a:u=_;fun z:N>B;rule z Z=T;"
+        Counted x = Check.with("data B=T|F;data N=Z|S N;fun u:N;law a:u=_;fun z:N>B;rule z Z=T;"
                 + "fun y:B>B;law b:y (z _)=_;");
         x.begin(0, true);
         x.unfold(0, 0);
@@ -220,7 +220,7 @@ public final class RowsTest {
     }
 
     private static void inducting() {
-        EquationProofs x = Check.with(LAWS);
+        Counted x = Check.with(LAWS);
         x.begin(3, true);
         Check.due("FULL", x.induction(1), 3);
         goal(x, 0, "add (add v0 _) v2 = add v0 (add _ v2)");
@@ -262,7 +262,7 @@ public final class RowsTest {
     }
 
     private static void trees() {
-        EquationProofs x = Check.with("data B=T|F;data Q=U|C Q B Q;fun w:Q>Q>Q;law a:w x y=w x y;");
+        Counted x = Check.with("data B=T|F;data Q=U|C Q B Q;fun w:Q>Q>Q;law a:w x y=w x y;");
         x.begin(0, false);
         Check.due("a tree", x.induction(0), 2);
         Check.due("the leaf", x.same(), 1);
@@ -283,7 +283,7 @@ public final class RowsTest {
 
     private static void inductingRoom() {
         String twelve = "data K=A1|A2|A3|A4|A5|A6|A7|A8|A9|B1|B2|B3;fun k:K>K;rule k x=x;law a:k x=x;";
-        EquationProofs x = Check.with(twelve);
+        Counted x = Check.with(twelve);
         x.begin(0, true);
         Check.due("13 goals", x.induction(0), ROOM);
         Check.due("13 goals of cases", x.cases(0, 1), ROOM);
@@ -298,7 +298,7 @@ public final class RowsTest {
         Check.due("one with 12 more", x.induction(1), ROOM);
         x.same();
         Check.due("alone, 12", x.induction(1), 12);
-        EquationProofs y = Check.with("data Q=U|C Q Q Q;data D=D1|D2 D;fun w:Q>Q>Q;fun e:D>Q;"
+        Counted y = Check.with("data Q=U|C Q Q Q;data D=D1|D2 D;fun w:Q>Q>Q;fun e:D>Q;"
                 + "law a:w x (w y (w z (e u)))=w x (w y (w z (e u)));");
         y.begin(0, false);
         for (int v = 0; v < 2; v++) {
@@ -321,7 +321,7 @@ public final class RowsTest {
         for (int c = 2; c <= 9; c++) {
             nine += "|C" + c + " Q Q Q";
         }
-        EquationProofs x = Check.with(nine + ";data R=R1|R2 R;data P=P Q Q R;"
+        Counted x = Check.with(nine + ";data R=R1|R2 R;data P=P Q Q R;"
                 + "law a:P (C1 x y z) (C1 u v x) w=P (C1 x y z) (C1 u v x) w;");
         x.begin(0, false);
         for (int turn = 0; turn < 2; turn++) {
@@ -337,7 +337,7 @@ public final class RowsTest {
     }
 
     private static void usingHypotheses() {
-        EquationProofs x = Check.with(LAWS);
+        Counted x = Check.with(LAWS);
         x.begin(3, true);
         x.induction(0);
         Check.due("no hypothesis yet", x.hypothesis(0, false, 0, 0), WRONG);
@@ -366,7 +366,7 @@ public final class RowsTest {
 
     private static void sureHypotheses() {
         for (int full = 0; full <= 1; full++) {
-            EquationProofs y = stepOf(full == 1);
+            Counted y = stepOf(full == 1);
             Check.due("on a sure variable", y.hypothesis(0, false, 0, 1), 1);
             y = stepOf(full == 1);
             Check.due("v1 becomes a call", y.law(0, true, 0, 12), 1);
@@ -375,8 +375,8 @@ public final class RowsTest {
     }
 
     /** The step of a law whose hypothesis can be used at once; law 0 is x + 0 = x, proved FULL. */
-    private static EquationProofs stepOf(boolean full) {
-        EquationProofs x = Check.with(Check.NUMBERS + "law a:add x Z=x;fun s:N>N>N;rule s Z y=Z;rule s (S x) y=S (s x y);"
+    private static Counted stepOf(boolean full) {
+        Counted x = Check.with(Check.NUMBERS + "law a:add x Z=x;fun s:N>N>N;rule s Z y=Z;rule s (S x) y=S (s x y);"
                 + "law b:s x y=s x y;");
         x.begin(0, true);
         x.search(50);
@@ -393,7 +393,7 @@ public final class RowsTest {
     }
 
     private static void casesOfVariables() {
-        EquationProofs x = Check.with(LAWS);
+        Counted x = Check.with(LAWS);
         x.begin(2, true);
         Check.due("FULL", x.cases(0, 1), 3);
         goal(x, 0, "add _ v1 = add v1 _");
@@ -417,7 +417,7 @@ public final class RowsTest {
     }
 
     private static void fixedVariables() {
-        EquationProofs x = Check.with("data N=Z|S N;fun w:N>N>N;law a:w x y=w x y;");
+        Counted x = Check.with("data N=Z|S N;fun w:N>N>N;law a:w x y=w x y;");
         x.begin(0, false);
         x.induction(0);
         x.same();
@@ -439,7 +439,7 @@ public final class RowsTest {
     }
 
     private static void casesOfCalls() {
-        EquationProofs x = Check.with(CHOICE);
+        Counted x = Check.with(CHOICE);
         x.begin(0, false);
         Check.due("of a call", x.cases(0, 1), 3);
         goal(x, 0, "if _ v0 v1 = if _ v1 v0");
@@ -456,7 +456,7 @@ public final class RowsTest {
     }
 
     private static void callsOfNumbers() {
-        EquationProofs x = Check.with(Check.NUMBERS + "law a:add (add x y) (add x y)=add x y;law b:add x y=_;"
+        Counted x = Check.with(Check.NUMBERS + "law a:add (add x y) (add x y)=add x y;law b:add x y=_;"
                 + "law c:add x y=add x y;");
         x.begin(0, false);
         Check.due("of a call of numbers", x.cases(1, 0), 3);
@@ -486,7 +486,7 @@ public final class RowsTest {
 
     /** What cases of a call fix is fixed in the goals that come of them, not in those beside them. */
     private static void fixedOfOneGoal() {
-        EquationProofs x = Check.with("data N=Z|S N;data P=P N N;fun w:N>N;law a:P (w x) (w x)=P (w x) (w x);");
+        Counted x = Check.with("data N=Z|S N;data P=P N N;fun w:N>N;law a:P (w x) (w x)=P (w x) (w x);");
         x.begin(0, false);
         Check.due("parts", x.parts(), 2);
         Check.due("cases of the first", x.cases(0, 0), 4);
@@ -497,7 +497,7 @@ public final class RowsTest {
     }
 
     private static void sameAndParts() {
-        EquationProofs x = Check.with("data B=T|F;data P=P B B B;data N=Z|S N;fun f:N>N;law a:P x y z=P u y x;"
+        Counted x = Check.with("data B=T|F;data P=P B B B;data N=Z|S N;fun f:N>N;law a:P x y z=P u y x;"
                 + "law b:Z=Z;law c:f x=f x;law d:Z=S Z;law e:S x=x;law f:S _=S _;law g:f x=S x;law h:S x=_;");
         x.begin(0, true);
         Check.due("not the same", x.same(), WRONG);
@@ -532,7 +532,7 @@ public final class RowsTest {
     }
 
     private static void partsKeep() {
-        EquationProofs x = Check.with("data N=Z|S N;data P=P N N;fun w:N>N>P;rule w x y=P x y;law a:w x y=P x y;");
+        Counted x = Check.with("data N=Z|S N;data P=P N N;fun w:N>N>P;rule w x y=P x y;law a:w x y=P x y;");
         x.begin(0, false);
         x.induction(0);
         x.unfold(0, 0);
@@ -553,7 +553,7 @@ public final class RowsTest {
     private static void partsRoom() {
         String ten = "data K=A1|A2|A3|A4|A5|A6|A7|A8|A9|B1";
         String rest = ";data P=P K K K;law a:P x y z=P x y z;";
-        EquationProofs x = Check.with(ten + rest);
+        Counted x = Check.with(ten + rest);
         x.begin(0, false);
         x.induction(0);
         Check.due("12 goals", x.parts(), 12);
@@ -571,7 +571,7 @@ public final class RowsTest {
     }
 
     private static void refusals() {
-        EquationProofs x = Check.with(LAWS);
+        Counted x = Check.with(LAWS);
         int[] sides = {-1, 2, Integer.MIN_VALUE, Integer.MAX_VALUE};
         for (int side : sides) {
             Check.due("unfold at side " + side, x.unfold(side, 0), OUTSIDE);
@@ -594,11 +594,11 @@ public final class RowsTest {
         Check.due("parts without a proof", x.parts(), STATE);
     }
 
-    private static void goal(EquationProofs x, int k, String want) {
+    private static void goal(Counted x, int k, String want) {
         Check.due("goal " + k, Check.goal(x, k), want);
     }
 
-    private static void hypothesis(EquationProofs x, int k, String want) {
+    private static void hypothesis(Counted x, int k, String want) {
         Check.due("hypothesis " + k, Check.hypothesis(x, k), want);
     }
 }

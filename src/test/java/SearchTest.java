@@ -17,7 +17,7 @@ public final class SearchTest {
     }
 
     private static void rowsCounted() {
-        EquationProofs x = Check.with(LAWS);
+        Counted x = Check.with(LAWS);
         x.begin(0, true);
         // Induction; _ and Z: unfold, same; S: unfold, hypothesis, same.
         Check.due("one row too few", x.search(7), 0);
@@ -36,7 +36,7 @@ public final class SearchTest {
     }
 
     private static void proofAsItWas() {
-        EquationProofs x = Check.with(LAWS);
+        Counted x = Check.with(LAWS);
         x.begin(2, true);
         x.induction(1);
         Check.due("a law that does not hold for all", x.search(500), 0);
@@ -49,7 +49,7 @@ public final class SearchTest {
     }
 
     private static void fromWhereItIs() {
-        EquationProofs x = Check.with(LAWS);
+        Counted x = Check.with(LAWS);
         x.begin(0, true);
         x.induction(0);
         x.unfold(0, 0);
@@ -59,7 +59,7 @@ public final class SearchTest {
 
     /** Of a goal where several rows can be done, the first one of the order is. */
     private static void order() {
-        EquationProofs x = Check.with("data N=Z|S N;data B=T|F;fun lo:N;rule lo=S lo;fun a:N>N;rule a x=Z;fun b:N>N;"
+        Counted x = Check.with("data N=Z|S N;data B=T|F;fun lo:N;rule lo=S lo;fun a:N>N;rule a x=Z;fun b:N>N;"
                 + "rule b x=S (b x);fun c:N>N>N;fun p:N>N;rule p (S x)=x;"
                 + "law s:lo=lo;law t:c (a Z) (a lo)=c Z Z;law u:S (a lo)=S Z;law v:p x=p x;law w:p x=x;law y:Z=a Z;");
         x.begin(0, true);
@@ -81,7 +81,7 @@ public final class SearchTest {
     private static void firstThatWaits() {
         String text = "data N=Z|S N;data B=T|F;data K=A1|A2|A3;fun c:N>N>N;rule c Z Z=Z;fun f:B>N;rule f T=Z;"
                 + "rule f F=Z;fun g:K>N;rule g A1=Z;rule g A2=Z;rule g A3=Z;";
-        EquationProofs x = Check.with(text + "law a:c (f x) (g y)=Z;law b:c (g y) (f x)=Z;");
+        Counted x = Check.with(text + "law a:c (f x) (g y)=Z;law b:c (g y) (f x)=Z;");
         x.begin(0, false);
         // x, then twice: unfold, y, three times two unfold and same.
         Check.due("the left one first", x.search(500), 1 + 2 * (2 + 3 * 3));
@@ -93,7 +93,7 @@ public final class SearchTest {
     }
 
     private static void partsAndHypotheses() {
-        EquationProofs x = Check.with(Check.NUMBERS + "data P=P N N;fun d:N>P;rule d x=P (add x Z) x;"
+        Counted x = Check.with(Check.NUMBERS + "data P=P N N;fun d:N>P;rule d x=P (add x Z) x;"
                 + "law a:d x=P x x;law b:add x Z=x;");
         x.begin(0, true);
         // Unfold, parts, the eight rows of x + 0 = x with the first part, same.
@@ -106,7 +106,7 @@ public final class SearchTest {
     }
 
     private static void lawsInOrder() {
-        EquationProofs x = Check.with(LAWS);
+        Counted x = Check.with(LAWS);
         x.begin(0, true);
         x.search(500);
         x.begin(1, false);
@@ -125,7 +125,7 @@ public final class SearchTest {
 
     private static void splitsAtMost() {
         String strict = "data B=T|F;fun x2:B>B>B;rule x2 T T=T;rule x2 T F=T;rule x2 F T=T;rule x2 F F=T;";
-        EquationProofs x = Check.with(strict + "law f4:x2 (x2 a b) (x2 c d)=T;"
+        Counted x = Check.with(strict + "law f4:x2 (x2 a b) (x2 c d)=T;"
                 + "law f5:x2 (x2 (x2 a b) (x2 c d)) e=T;");
         x.begin(1, false);
         Check.due("five in one another", x.search(500), 0);
@@ -145,7 +145,7 @@ public final class SearchTest {
     }
 
     private static void casesOfFixed() {
-        EquationProofs x = Check.with("data B=T|F;data N=Z|S N;fun ev:N>B;rule ev Z=T;rule ev (S Z)=F;"
+        Counted x = Check.with("data B=T|F;data N=Z|S N;fun ev:N>B;rule ev Z=T;rule ev (S Z)=F;"
                 + "rule ev (S (S x))=ev x;fun not:B>B;rule not T=F;rule not F=T;law a:ev (S x)=not (ev x);");
         x.begin(0, false);
         // Behind the hypothesis ev x is to be not (not (ev x)); cases of x, which is fixed, never come to an end.
@@ -160,7 +160,7 @@ public final class SearchTest {
     }
 
     private static void deepPlaces() {
-        EquationProofs x = Check.with(Check.NUMBERS + "fun g:N>N;rule g x=" + Check.repeat("S (", 9) + "S x"
+        Counted x = Check.with(Check.NUMBERS + "fun g:N>N;rule g x=" + Check.repeat("S (", 9) + "S x"
                 + Check.repeat(")", 9) + ";law a:g (g (add Z Z))=g (g Z);");
         x.begin(0, true);
         // Both g at the left, then what stands twenty deep, then both g at the right.
@@ -168,7 +168,7 @@ public final class SearchTest {
     }
 
     private static void refused() {
-        EquationProofs x = Check.with(LAWS);
+        Counted x = Check.with(LAWS);
         Check.due("search(0)", x.search(0), EquationProofs.OUTSIDE);
         Check.due("search(501)", x.search(501), EquationProofs.OUTSIDE);
         Check.due("search(-1)", x.search(-1), EquationProofs.OUTSIDE);

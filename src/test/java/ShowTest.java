@@ -1,7 +1,7 @@
 /** Promises 21 to 24: show, showHypothesis, showLaw, printed. */
 public final class ShowTest {
     public static void main(String[] args) {
-        EquationProofs x = Check.with("data Tree=Leaf|Fork Tree Tree;fun mirror:Tree>Tree;rule mirror Leaf=Leaf;"
+        Counted x = Check.with("data Tree=Leaf|Fork Tree Tree;fun mirror:Tree>Tree;rule mirror Leaf=Leaf;"
                 + "rule mirror (Fork l r)=Fork (mirror r) (mirror l);law twice:mirror (mirror (x1))=x1;"
                 + "law undo:Fork _ (Fork b a)=Fork (mirror (Fork Leaf a)) _;");
         laws(x);
@@ -12,7 +12,7 @@ public final class ShowTest {
         Check.finish();
     }
 
-    private static void laws(EquationProofs x) {
+    private static void laws(Counted x) {
         printed(x, x.showLaw(0, 0), "mirror (mirror v0)");
         printed(x, x.showLaw(0, 1), "v0");
         printed(x, x.showLaw(1, 0), "Fork _ (Fork v0 v1)");
@@ -23,7 +23,7 @@ public final class ShowTest {
         Check.due("showLaw(0, -1)", x.showLaw(0, -1), EquationProofs.OUTSIDE);
     }
 
-    private static void goals(EquationProofs x) {
+    private static void goals(Counted x) {
         Check.due("show without a proof", x.show(0, 0), EquationProofs.STATE);
         x.begin(0, true);
         printed(x, x.show(0, 0), "mirror (mirror v0)");
@@ -38,7 +38,7 @@ public final class ShowTest {
         Check.due("show(0, -1)", x.show(0, -1), EquationProofs.OUTSIDE);
     }
 
-    private static void hypotheses(EquationProofs x) {
+    private static void hypotheses(Counted x) {
         x.begin(0, true);
         Check.due("no hypothesis", x.showHypothesis(0, 0), EquationProofs.OUTSIDE);
         x.induction(0);
@@ -61,7 +61,7 @@ public final class ShowTest {
         Check.due("done: show(0, 0)", x.show(0, 0), EquationProofs.STATE);
     }
 
-    private static void nothingByRefusals(EquationProofs x) {
+    private static void nothingByRefusals(Counted x) {
         x.showLaw(0, 0);
         x.showLaw(7, 0);
         x.show(0, 0);
@@ -75,7 +75,7 @@ public final class ShowTest {
     }
 
     private static void twoDigits() {
-        EquationProofs x = Check.with("data Q=U|C Q Q Q;fun w:Q>Q>Q;law a:w x y=w x y;");
+        Counted x = Check.with("data Q=U|C Q Q Q;fun w:Q>Q>Q;law a:w x y=w x y;");
         x.begin(0, false);
         for (int turn = 0; turn < 3; turn++) {
             x.cases(0, turn == 0 ? 1 : turn == 1 ? 11 : 111);
@@ -89,7 +89,7 @@ public final class ShowTest {
                 "w (C (C (C f8 f9 v11) f6 f7) f3 f4) f1 = w (C (C (C f8 f9 v11) f6 f7) f3 f4) f1");
     }
 
-    private static void printed(EquationProofs x, int answer, String want) {
+    private static void printed(Counted x, int answer, String want) {
         Check.due("bytes of " + want, answer, want.length());
         Check.due("printed", Check.printed(x), want);
     }

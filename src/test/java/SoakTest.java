@@ -21,17 +21,18 @@ public final class SoakTest {
     private static final String[] PIECES = {"data ", "fun ", "rule ", "law ", "N", "Z", "S ", "x", "y ", "add ", "_",
         "(", ")", "=", "|", ":", ";", ">", " ", "\n", "Abcdefg", "f", "T", "5", "."};
 
-    private static EquationProofs x = new EquationProofs();
+    private static Counted x = new Counted();
     private static int strange = 0;
 
     public static void main(String[] args) {
         Random random = new Random(20261115);
-        for (int run = 0; run < 400; run++) {
-            x = new EquationProofs();
+        for (int run = 0; run < 500; run++) {
+            x = new Counted();
             if (run % 8 != 7) {
                 Check.read(x, THEORIES[run % THEORIES.length]);
             }
-            for (int call = 0; call < 400; call++) {
+            // The rest is for the calls of the last turn, and for sound().
+            while (x.calls() < Counted.MOST_CALLS - 140) {
                 oneCall(random);
             }
             sound(run);

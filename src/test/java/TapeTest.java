@@ -8,7 +8,7 @@ public final class TapeTest {
     }
 
     private static void newObject() {
-        EquationProofs x = new EquationProofs();
+        Counted x = new Counted();
         for (int what = 0; what <= 7; what++) {
             Check.due("new: count(" + what + ")", x.count(what), 0);
         }
@@ -32,7 +32,7 @@ public final class TapeTest {
     }
 
     private static void feeding() {
-        EquationProofs x = new EquationProofs();
+        Counted x = new Counted();
         // "data A=B;data C=D;  ", the highest byte of each number first
         Check.due("feed", x.feed(0x64617461, 0x20413d42, 0x3b646174, 0x6120433d, 0x443b2020), 20);
         Check.due("read of what was fed", x.read(), 2);
@@ -63,7 +63,7 @@ public final class TapeTest {
     }
 
     private static void cutting() {
-        EquationProofs x = new EquationProofs();
+        Counted x = new Counted();
         x.feed(0x64617461, 0x20413d42, 0x3b646174, 0x6120433d, 0x443b2020);
         Check.due("end(-1)", end(x, -1), 1);
         Check.due("end(21)", end(x, 21), 1);
@@ -76,7 +76,7 @@ public final class TapeTest {
         Check.due("types of the first nine bytes", x.count(0), 1);
     }
 
-    private static int end(EquationProofs x, int n) {
+    private static int end(Counted x, int n) {
         try {
             x.end(n);
             return 0;
@@ -85,7 +85,7 @@ public final class TapeTest {
         }
     }
 
-    private static int feed(EquationProofs x) {
+    private static int feed(Counted x) {
         try {
             return x.feed(0x20202020, 0x20202020, 0x20200a20, 0x20202020, 0x20202020);
         } catch (IllegalStateException e) {

@@ -17,8 +17,8 @@ public final class TextTest {
     }
 
     private static void wholeTexts() {
-        Check.due("no decls", Check.read(new EquationProofs(), " \n "), 0);
-        Check.due("base", Check.read(new EquationProofs(), BASE), 6);
+        Check.due("no decls", Check.read(new Counted(), " \n "), 0);
+        Check.due("base", Check.read(new Counted(), BASE), 6);
         fine("rule f (S x)=f x;");
         fine("rule f (Z)=Z;");
         fine("rule g x b=((f ((x))));");
@@ -158,7 +158,7 @@ public final class TextTest {
     private static void tooManyOfATerm() {
         String six = "law a:add (add x y) (add z (add u (add v w)))=";
         Check.due("six variables", Check.read(Check.with(Check.NUMBERS), six + "x;"), 1);
-        EquationProofs x = Check.with(Check.NUMBERS);
+        Counted x = Check.with(Check.NUMBERS);
         Check.due("seven variables", Check.read(x, six + "t;"), -1000 - six.length());
         Check.due("seven variables: kind", x.fault(), 5);
         String ten = Check.repeat("(", 10);
@@ -179,7 +179,7 @@ public final class TextTest {
         fine(wide + "rule w " + thirteen + " (C " + seven + seven + ten2 + ")=U;");
         String left = "w " + thirteen + " (C " + seven + ten2 + ten2 + ")";
         fault(wide + "rule " + left + "=U;", wide.length() + 5 + placeOfName(left, 41), 5);
-        EquationProofs work = Check.with(wide);
+        Counted work = Check.with(wide);
         Check.due("forty names to be worked out", Check.work(work, forty, 0), 0);
         Check.due("forty-one names", Check.work(work, more, 0), -1000 - last);
         Check.due("forty-one names: kind", work.fault(), 5);
@@ -213,7 +213,7 @@ public final class TextTest {
     }
 
     private static void nothingOfAFault() {
-        EquationProofs x = Check.with(BASE + "law a:f x=x;");
+        Counted x = Check.with(BASE + "law a:f x=x;");
         x.begin(0, true);
         Check.due("fault behind much", Check.read(x, "data Q=A;fun h:Q;rule h=A;law b:h=h;rule"), -1040);
         Check.due("types", x.count(0), 3);
@@ -232,7 +232,7 @@ public final class TextTest {
     }
 
     private static void counting() {
-        EquationProofs x = Check.with(BASE + "rule f x=x;law a:f x=x;law b:f (f x)=x;");
+        Counted x = Check.with(BASE + "rule f x=x;law a:f x=x;law b:f (f x)=x;");
         int[] want = {3, 5, 3, 1, 2, 0, 0, 0};
         for (int what = 0; what < want.length; what++) {
             Check.due("count(" + what + ")", x.count(what), want[what]);
@@ -256,7 +256,7 @@ public final class TextTest {
     }
 
     private static void telling() {
-        EquationProofs x = Check.with(BASE + "law a:g (f x) b=S (g _ c);law b:k=k;");
+        Counted x = Check.with(BASE + "law a:g (f x) b=S (g _ c);law b:k=k;");
         int[] want = {0, 3, 4, 4};
         for (int what = 0; what < want.length; what++) {
             Check.due("about(0, " + what + ")", x.about(0, what), want[what]);
@@ -286,7 +286,7 @@ public final class TextTest {
 
     /** Behind the base, the text has no fault. */
     private static void fine(String text) {
-        EquationProofs x = Check.with(BASE);
+        Counted x = Check.with(BASE);
         int answer = Check.read(x, text);
         Check.due("read of " + text, answer < 0 ? answer : 0, 0);
         Check.due("fault of " + text, x.fault(), 0);
@@ -294,7 +294,7 @@ public final class TextTest {
 
     /** Behind the base, the text has a fault of this kind at this place. */
     private static void fault(String text, int place, int kind) {
-        EquationProofs x = Check.with(BASE);
+        Counted x = Check.with(BASE);
         Check.due("read of " + text, Check.read(x, text), -1000 - place);
         Check.due("fault of " + text, x.fault(), kind);
     }

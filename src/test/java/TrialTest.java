@@ -11,7 +11,7 @@ public final class TrialTest {
     }
 
     private static void answers() {
-        EquationProofs x = Check.with(Check.NUMBERS + "fun lo:N;rule lo=S lo;fun st:N>N;rule st Z=lo;rule st (S x)=S x;"
+        Counted x = Check.with(Check.NUMBERS + "fun lo:N;rule lo=S lo;fun st:N>N;rule st Z=lo;rule st (S x)=S x;"
                 + "law a:add x Z=x;law b:add x y=add y x;law c:lo=lo;law d:Z=S Z;law e:st x=S x;law f:add lo x=lo;");
         Check.due("test(0, 6, true)", x.test(0, 6, true), 0);
         Check.due("test(1, 6, false)", x.test(1, 6, false), 0);
@@ -59,14 +59,14 @@ public final class TrialTest {
         first(tree + "rule p (D x A)=A;law a:p x=_;", 6, true, "D _ A");
         first(tree + "rule p (D A x)=A;law a:p x=_;", 6, true, "D A _");
         first(tree + "rule p (D (B x) y)=A;law a:p x=_;", 6, true, "D (B _) _");
-        EquationProofs x = Check.with(tree + "rule p (B (B (B (B (B x)))))=B A;rule p x=A;law a:p x=A;");
+        Counted x = Check.with(tree + "rule p (B (B (B (B (B x)))))=B A;rule p x=A;law a:p x=A;");
         Check.due("five names", x.test(0, 5, false), 0);
         Check.due("six names", x.test(0, 6, false), 1);
         told(x, 0, "B (B (B (B (B A))))");
     }
 
     private static void first(String text, int size, boolean all, String value) {
-        EquationProofs x = Check.with(text);
+        Counted x = Check.with(text);
         Check.due("test of " + text, x.test(0, size, all), 1);
         told(x, 0, value);
     }
@@ -80,7 +80,7 @@ public final class TrialTest {
     }
 
     private static void row(String text, boolean all, String values) {
-        EquationProofs x = Check.with(text + (all ? "law a:q x y z=_;" : "law a:q x y z=T;"));
+        Counted x = Check.with(text + (all ? "law a:q x y z=_;" : "law a:q x y z=T;"));
         Check.due("test of " + text, x.test(0, 6, all), 1);
         for (int v = 0; v < 3; v++) {
             told(x, v, values.split(" ")[v]);
@@ -90,7 +90,7 @@ public final class TrialTest {
     private static void rowsAtMost() {
         String base = Check.NUMBERS + "data O=O1;data W=V W;data Q=U|C Q Q Q;fun o:O>N>N;rule o x y=y;fun w:W>Q>N;"
                 + "rule w x y=S Z;";
-        EquationProofs x = Check.with(base + "law a:add x (add y z)=add (add x y) z;"
+        Counted x = Check.with(base + "law a:add x (add y z)=add (add x y) z;"
                 + "law b:add x (add y (add z u))=add (add (add x y) z) u;"
                 + "law c:o p (add x (add y z))=add (add x y) z;law d:w x y=Z;law e:C x y z=C x y z;");
         Check.due("12 * 12 * 12 rows", x.test(0, 6, true), 0);
@@ -107,7 +107,7 @@ public final class TrialTest {
         Check.due("2001 rows of one variable",
                 Check.with(ten + "data X=U|C K K K|D K K K;fun f:X>X;law a:f x=_;").test(0, 4, false),
                 EquationProofs.ROOM);
-        EquationProofs many = Check.with("data X=X1|X2 X|X3 X X;data P=P X X X;law a:P x y z=P x y z;law b:X3 x y=X2 x;"
+        Counted many = Check.with("data X=X1|X2 X|X3 X X;data P=P X X X;law a:P x y z=P x y z;law b:X3 x y=X2 x;"
                 + "law c:X2 x=x;");
         Check.due("188 * 188 * 188 rows", many.test(0, 6, true), EquationProofs.ROOM);
         Check.due("188 * 188 rows", many.test(1, 6, true), EquationProofs.ROOM);
@@ -122,7 +122,7 @@ public final class TrialTest {
                 + "fun c:N>N;rule c x=b (b (b (b (b x))));fun d:N>N;rule d x=c (c (c (c (c x))));";
         // One of a, 6 of b, 31 of c, 156 of d: 156 + 4 * 31 + 3 * 6 + 2.
         String steps300 = "d (c (c (c (c (b (b (b (a (a Z)))))))))";
-        EquationProofs x = Check.with(slow + "law l:" + steps300 + "=Z;law m:a (" + steps300 + ")=Z;law n:S Z=a ("
+        Counted x = Check.with(slow + "law l:" + steps300 + "=Z;law m:a (" + steps300 + ")=Z;law n:S Z=a ("
                 + steps300 + ");");
         Check.due("300 steps", x.test(0, 1, false), 0);
         Check.due("301 steps", x.test(1, 1, false), 2);
@@ -130,7 +130,7 @@ public final class TrialTest {
     }
 
     private static void refused() {
-        EquationProofs x = Check.with(Check.NUMBERS + "law a:add x Z=x;");
+        Counted x = Check.with(Check.NUMBERS + "law a:add x Z=x;");
         Check.due("test(1, 1, true)", x.test(1, 1, true), EquationProofs.UNKNOWN);
         Check.due("test(-1, 0, true)", x.test(-1, 0, true), EquationProofs.UNKNOWN);
         Check.due("test(0, 0, true)", x.test(0, 0, true), EquationProofs.OUTSIDE);
@@ -138,7 +138,7 @@ public final class TrialTest {
         Check.due("test(0, int min, true)", x.test(0, Integer.MIN_VALUE, true), EquationProofs.OUTSIDE);
     }
 
-    private static void told(EquationProofs x, int variable, String value) {
+    private static void told(Counted x, int variable, String value) {
         Check.due("bytes of told(" + variable + ")", x.told(variable), value.length());
         Check.due("told(" + variable + ")", Check.printed(x), value);
     }

@@ -10,25 +10,24 @@ public final class WorkTest {
             + "fun big:Q>Q;rule big x=big (C x x x);";
 
     public static void main(String[] args) {
-        EquationProofs x = Check.with(MANY);
-        values(x);
-        matching(x);
-        order(x);
-        tooGreat(x);
-        refused(x);
-        faults(x);
-        printing(x);
+        values(Check.with(MANY));
+        matching(Check.with(MANY));
+        order(Check.with(MANY));
+        tooGreat();
+        refused(Check.with(MANY));
+        faults(Check.with(MANY));
+        printing(Check.with(MANY));
         Check.finish();
     }
 
-    private static void values(EquationProofs x) {
+    private static void values(Counted x) {
         worked(x, "Z", 0, 0, 0, "Z");
         worked(x, "_", 0, 0, 0, "_");
         worked(x, " ( P ((S Z))\n_ ) ", 0, 0, 0, "P (S Z) _");
         worked(x, "C U _ (C U U U)", 2000, 0, 0, "C U _ (C U U U)");
     }
 
-    private static void matching(EquationProofs x) {
+    private static void matching(Counted x) {
         worked(x, "add (S Z) (S (S Z))", 100, 0, 2, "S (S (S Z))");
         worked(x, "add _ Z", 100, 0, 1, "_");
         worked(x, "add (S _) Z", 100, 0, 2, "S _");
@@ -48,7 +47,7 @@ public final class WorkTest {
         worked(x, "d (P Z _)", 1, 1, 1, "lo");
     }
 
-    private static void order(EquationProofs x) {
+    private static void order(Counted x) {
         worked(x, "if T Z lo", 10, 0, 1, "Z");
         worked(x, "if _ Z lo", 10, 0, 1, "_");
         worked(x, "fst (P Z lo)", 10, 0, 1, "Z");
@@ -64,18 +63,25 @@ public final class WorkTest {
         worked(x, "if (if2) Z Z", 9, -1004, 3, "Z");
     }
 
-    private static void tooGreat(EquationProofs x) {
-        worked(x, "lo", 119, 1, 119, null);
-        Check.due("120 names", Check.printed(x).length(), 2 * 119 + 2 + 2 * 118);
-        worked(x, "lo", 120, 2, 119, null);
-        Check.due("120 names still", Check.printed(x).length(), 2 * 119 + 2 + 2 * 118);
-        worked(x, "lo", 2000, 2, 119, null);
+    private static void tooGreat() {
+        int bytes = 2 * 119 + 2 + 2 * 118;
+        lastByte(Check.with(MANY), 119, 1, bytes);
+        lastByte(Check.with(MANY), 120, 2, bytes);
+        lastByte(Check.with(MANY), 2000, 2, bytes);
+        Counted x = Check.with(MANY);
         worked(x, "big U", 2000, 2, 3, null);
         Check.due("40 names behind big", Check.printed(x).substring(0, 8), "big (C (");
         worked(x, "big U", 3, 1, 3, null);
     }
 
-    private static void refused(EquationProofs x) {
+    /** What lo becomes has 120 names, and never more. */
+    private static void lastByte(Counted x, int steps, int answer, int bytes) {
+        worked(x, "lo", steps, answer, 119, null);
+        Check.due("the last byte of 120 names", x.printed(bytes - 1), ')');
+        Check.due("behind 120 names", x.printed(bytes), EquationProofs.NONE);
+    }
+
+    private static void refused(Counted x) {
         worked(x, "add Z Z", 1, 0, 1, "Z");
         int kind = x.fault();
         worked(x, "add", -1, EquationProofs.OUTSIDE, 1, "Z");
@@ -83,7 +89,7 @@ public final class WorkTest {
         Check.due("no fault is looked for", x.fault(), kind);
     }
 
-    private static void faults(EquationProofs x) {
+    private static void faults(Counted x) {
         fault(x, "", 0, 2);
         fault(x, " \n", 2, 2);
         fault(x, "add x Z", 4, 3);
@@ -103,7 +109,7 @@ public final class WorkTest {
         worked(x, Check.repeat("(", 10) + "Z" + Check.repeat(")", 10), 0, 0, 0, "Z");
     }
 
-    private static void printing(EquationProofs x) {
+    private static void printing(Counted x) {
         Check.work(x, "S (S Z)", 0);
         int[] want = {'S', ' ', '(', 'S', ' ', 'Z', ')'};
         for (int i = 0; i < want.length; i++) {
@@ -117,7 +123,7 @@ public final class WorkTest {
         Check.due("prints nothing", Check.printed(x), "S (S Z)");
     }
 
-    private static void worked(EquationProofs x, String text, int steps, int answer, int taken, String printed) {
+    private static void worked(Counted x, String text, int steps, int answer, int taken, String printed) {
         Check.due("work(" + steps + ") of " + text, Check.work(x, text, steps), answer);
         if (answer >= 0 || answer == EquationProofs.OUTSIDE) {
             Check.due("steps of " + text, x.steps(), taken);
@@ -127,7 +133,7 @@ public final class WorkTest {
         }
     }
 
-    private static void fault(EquationProofs x, String text, int place, int kind) {
+    private static void fault(Counted x, String text, int place, int kind) {
         Check.due("work of " + text, Check.work(x, text, 10), -1000 - place);
         Check.due("fault of " + text, x.fault(), kind);
     }

@@ -1,0 +1,488 @@
+/** Places, what a row may be done with, and when it may not: "3 PROOFS" and promises 12 to 19. */
+public final class EdgeRowsTest {
+    private static final int UNKNOWN = EquationProofs.UNKNOWN;
+    private static final int OUTSIDE = EquationProofs.OUTSIDE;
+    private static final int STATE = EquationProofs.STATE;
+    private static final int WRONG = EquationProofs.WRONG;
+    private static final int[] FAR = {Integer.MIN_VALUE, Integer.MAX_VALUE};
+
+    private static final String LAWS = Check.NUMBERS + "law a:add x Z=x;law b:add x (S y)=S (add x y);"
+            + "law c:add x y=add y x;law d:add (add x y) z=add x (add y z);";
+
+    public static void main(String[] args) {
+        argumentPlaces();
+        deepestPlaces();
+        sidesAndPlaces();
+        lawNumbers();
+        hypothesisNumbers();
+        variableNumbers();
+        statesOfRows();
+        unfolding();
+        provedLaws();
+        freeVariables();
+        sureVariables();
+        fixedVariables();
+        casesOfNothing();
+        sameSides();
+        oneConstructor();
+        proofIsDone();
+        Check.finish();
+    }
+
+    private static void argumentPlaces() {
+        Check.sentence("A PLACE: 0 the whole side; else 1 .. 4 an argument, then one of its arguments");
+        String[] sides = {"f0", "f1 f0", "f2 f0 f0", "f3 f0 f0 f0", "f4 f0 f0 f0 f0"};
+        String base = "data N=Z;fun f0:N;fun f1:N>N;fun f2:N>N>N;fun f3:N>N>N>N;fun f4:N>N>N>N>N;";
+        for (int arity = 0; arity <= 4; arity++) {
+            for (int place = 0; place <= 20; place++) {
+                Counted x = Check.with(base + "law a:" + sides[arity] + "=Z;law b:f1 (" + sides[arity] + ")=Z;");
+                x.begin(0, true);
+                Check.due("unfold at " + place + " of " + sides[arity], x.unfold(0, place), place <= arity ? 1 : WRONG);
+                x.begin(0, true);
+                Check.due("cases at " + place + " of " + sides[arity], x.cases(0, place), place <= arity ? 2 : WRONG);
+                x.begin(1, true);
+                boolean there = place <= 1 || place >= 11 && place <= 10 + arity;
+                Check.due("unfold at " + place + " of f1", x.unfold(0, place), there ? 1 : WRONG);
+            }
+        }
+        Counted x = Check.with(base + "law a:f4 f0 f0 (f2 f0 (f3 f0 f0 f0)) f0=Z;");
+        x.begin(0, true);
+        for (int none : new int[] {5, 11, 30, 33, 35, 39, 40, 100, 300, 301, 320, 324, 329, 3021, 3201, 3231, 9, 99}) {
+            Check.due("unfold at " + none, x.unfold(0, none), WRONG);
+        }
+        Check.due("unfold at 323", x.unfold(0, 323), 1);
+        Check.due("the third of the second of the third", Check.goal(x, 0), "f4 f0 f0 (f2 f0 (f3 f0 f0 _)) f0 = Z");
+        Check.due("unfold at 31", x.unfold(0, 31), 1);
+        Check.due("the first of the third", Check.goal(x, 0), "f4 f0 f0 (f2 _ (f3 f0 f0 _)) f0 = Z");
+        Check.due("unfold at 32", x.unfold(0, 32), 1);
+        Check.due("unfold at 4", x.unfold(0, 4), 1);
+        Check.due("the fourth", Check.goal(x, 0), "f4 f0 f0 (f2 _ _) _ = Z");
+    }
+
+    private static void deepestPlaces() {
+        Check.sentence("A PLACE is a number, in decimals");
+        int place = 0;
+        for (int deep = 0; deep <= 10; deep++) {
+            // So many S round k; the deepest place that has a number has ten of them.
+            String side = deep == 0 ? "k" : Check.repeat("S (", deep - 1) + "S k" + Check.repeat(")", deep - 1);
+            Counted x = Check.with("data N=Z|S N;fun k:N;rule k=S k;law a:" + side + "=Z;law b:Z=" + side + ";");
+            x.begin(0, true);
+            Check.due("S at " + place / 10, deep > 0 ? x.unfold(0, place / 10) : WRONG, WRONG);
+            Check.due("behind k", deep < 10 ? x.unfold(0, place * 10 + 1) : WRONG, WRONG);
+            Check.due("k at " + place, x.unfold(0, place), 1);
+            x.begin(1, true);
+            Check.due("k at the right, at " + place, x.unfold(1, place), 1);
+            place = place * 10 + 1;
+        }
+        String side = Check.repeat("S (", 9) + "P2 (P2 k k) k" + Check.repeat(")", 9);
+        Counted x = Check.with("data N=Z|S N|P2 N N;fun k:N;law a:" + side + "=P2 " + "Z k;");
+        x.begin(0, true);
+        Check.due("ten digits", x.unfold(0, 1111111112), 1);
+        for (int none : new int[] {1111111113, 1111111122, 2111111111, 2147483647, 1111111101, 1000000000}) {
+            Check.due("none at " + none, x.unfold(0, none), WRONG);
+        }
+        x = Check.with("data N=Z|S N|P2 N N;fun k:N;law a:P2 Z (" + Check.repeat("S (", 8) + "S k" + Check.repeat(")", 8)
+                + ")=Z;");
+        x.begin(0, true);
+        Check.due("2 ahead of nine digits", x.unfold(0, 2111111111), 1);
+    }
+
+    private static void sidesAndPlaces() {
+        Check.sentence("OUTSIDE (side 0, 1; the place is below 0)");
+        for (int side = -2; side <= 3; side++) {
+            for (int place = -2; place <= 1; place++) {
+                Counted x = Check.with(Check.NUMBERS + "law a:add Z (add Z x)=add Z (add Z x);law b:add Z x=x;");
+                x.begin(1, true);
+                x.unfold(0, 0);
+                x.same();
+                x.begin(0, true);
+                x.cases(0, 0);
+                boolean outside = side < 0 || side > 1 || place < 0;
+                String at = "(" + side + ", " + place + ")";
+                Check.due("hypothesis" + at, x.hypothesis(0, false, side, place), outside ? OUTSIDE : WRONG);
+                Check.due("cases" + at, x.cases(side, place), outside ? OUTSIDE : WRONG);
+                x.begin(0, true);
+                Check.due("unfold" + at, x.unfold(side, place), outside ? OUTSIDE : place == 0 ? 1 : WRONG);
+                x.begin(0, true);
+                Check.due("law" + at, x.law(1, false, side, place), outside ? OUTSIDE : place == 0 ? 1 : WRONG);
+            }
+        }
+        Counted x = Check.with(LAWS);
+        x.begin(0, true);
+        for (int far : FAR) {
+            Check.due("unfold at side " + far, x.unfold(far, 0), OUTSIDE);
+            Check.due("law at side " + far, x.law(0, false, far, 0), OUTSIDE);
+            Check.due("hypothesis at side " + far, x.hypothesis(0, false, far, 0), OUTSIDE);
+            Check.due("cases at side " + far, x.cases(far, 0), OUTSIDE);
+            int want = far < 0 ? OUTSIDE : WRONG;
+            Check.due("unfold at " + far, x.unfold(0, far), want);
+            Check.due("law at " + far, x.law(0, false, 0, far), want);
+            Check.due("hypothesis at " + far, x.hypothesis(0, false, 0, far), want);
+            Check.due("cases at " + far, x.cases(0, far), want);
+        }
+    }
+
+    private static void lawNumbers() {
+        Check.sentence("begin, law: UNKNOWN (the law)");
+        Counted x = Check.with(LAWS);
+        for (int law : new int[] {-1, 4, 15, 16, Integer.MIN_VALUE, Integer.MAX_VALUE}) {
+            Check.due("begin(" + law + ")", x.begin(law, true), UNKNOWN);
+            Check.due("law(" + law + ") without a proof", x.law(law, false, 0, 0), UNKNOWN);
+            Check.due("law(" + law + ") at side 2", x.law(law, false, 2, 0), UNKNOWN);
+            Check.due("law(" + law + ") below 0", x.law(law, true, 0, -1), UNKNOWN);
+        }
+        Check.due("begin(3)", x.begin(3, true), 1);
+        Check.due("law(4) in a proof", x.law(4, false, 0, 0), UNKNOWN);
+        Check.due("law(3), which is not proved", x.law(3, false, 0, 0), WRONG);
+        Check.due("begin(0)", x.begin(0, true), 1);
+        Check.due("law(0), which is not proved", x.law(0, false, 0, 0), WRONG);
+    }
+
+    private static void hypothesisNumbers() {
+        Check.sentence("HYPOTHESIS k of the first goal (from 0): WRONG (there is none such, too)");
+        String side = "w x x x x";
+        Counted x = Check.with("data N=S N N N;fun w:N>N>N>N>N;law a:" + side + "=" + side + ";");
+        x.begin(0, false);
+        Check.due("none yet", x.hypothesis(0, false, 0, 0), WRONG);
+        Check.due("induction", x.induction(0), 1);
+        Check.due("three", x.count(7), 3);
+        for (int k : new int[] {-1, 3, 4, 8, 9, Integer.MIN_VALUE, Integer.MAX_VALUE}) {
+            Check.due("hypothesis(" + k + ")", x.hypothesis(k, false, 0, 0), WRONG);
+            Check.due("hypothesis(" + k + ") at side 2", x.hypothesis(k, false, 2, 0), OUTSIDE);
+            Check.due("hypothesis(" + k + ") below 0", x.hypothesis(k, false, 0, -1), OUTSIDE);
+            Check.due("showHypothesis(" + k + ")", x.showHypothesis(k, 0), OUTSIDE);
+        }
+        String[] want = {"w v1 v1 v1 v1", "w v2 v2 v2 v2", "w v3 v3 v3 v3"};
+        for (int k = 0; k < 3; k++) {
+            Check.due("hypothesis " + k, Check.hypothesis(x, k), want[k] + " = " + want[k]);
+        }
+        usedHypotheses();
+    }
+
+    private static void usedHypotheses() {
+        Counted x = Check.with("data N=Z|S N N;fun m:N>N;rule m Z=Z;rule m (S x y)=S (m y) (m x);law a:m (m x)=x;");
+        x.begin(0, false);
+        x.induction(0);
+        x.unfold(0, 1);
+        x.unfold(0, 0);
+        x.same();
+        x.unfold(0, 1);
+        x.unfold(0, 0);
+        Check.due("the step", Check.goal(x, 0), "S (m (m v1)) (m (m v2)) = S v1 v2");
+        Check.due("hypothesis 0 is not at 2", x.hypothesis(0, false, 0, 2), WRONG);
+        Check.due("hypothesis 1 is not at 1", x.hypothesis(1, false, 0, 1), WRONG);
+        Check.due("hypothesis 0", x.hypothesis(0, false, 0, 1), 1);
+        Check.due("hypothesis 1", x.hypothesis(1, false, 0, 2), 1);
+        Check.due("same", x.same(), 0);
+    }
+
+    private static void variableNumbers() {
+        Check.sentence("INDUCTION over variable v: WRONG (it is none of the goal's two terms, too)");
+        int[] none = {-1, 2, 3, 6, 59, 60, 63, 64, 65, 128, -64, Integer.MIN_VALUE, Integer.MAX_VALUE};
+        Counted x = Check.with(LAWS + "law e:add x Z=add x y;");
+        x.begin(2, true);
+        for (int v : none) {
+            Check.due("induction(" + v + ")", x.induction(v), WRONG);
+        }
+        Check.due("induction(1)", x.induction(1), 3);
+        Check.due("it has gone", x.induction(1), WRONG);
+        Check.due("of another goal", x.induction(2), WRONG);
+        Check.due("the other one is there", x.induction(0), 5);
+        x.begin(4, true);
+        Check.due("of the right side alone", x.induction(1), 3);
+        x.begin(0, true);
+        Check.due("of the law, too", x.induction(0), 3);
+        // v1 is of the hypothesis alone, when the goal has it no more.
+        x = Check.with("data N=Z|S N;fun f:N>N>N;rule f x y=x;law a:f x y=f x y;");
+        x.begin(0, false);
+        x.induction(0);
+        x.same();
+        x.unfold(0, 0);
+        x.unfold(1, 0);
+        Check.due("the goal", Check.goal(x, 0), "S v2 = S v2");
+        Check.due("the hypothesis", Check.hypothesis(x, 0), "f v2 f1 = f v2 f1");
+        Check.due("a variable of the hypothesis alone", x.induction(1), WRONG);
+    }
+
+    private static void statesOfRows() {
+        Check.sentence("Rows: STATE (no proof is under way; it is done)");
+        Counted x = Check.with(LAWS + "law e:Z=Z;");
+        noRow(x, "no proof");
+        x.begin(4, true);
+        Check.due("same", x.same(), 0);
+        noRow(x, "it is done");
+        x.begin(0, true);
+        Check.due("under way", x.induction(0), 3);
+        x.begin(9, true);
+        Check.due("a begin that is refused leaves it", x.same(), WRONG);
+        Check.read(x, "law f:Z=Z");
+        Check.due("a text with a fault leaves it", x.same(), WRONG);
+        Check.read(x, "law f:Z=Z;");
+        noRow(x, "a text has ended it");
+        x.begin(0, true);
+        Check.read(x, "");
+        noRow(x, "an empty text has ended it");
+        x.begin(0, true);
+        Check.work(x, "Z", 0);
+        x.test(0, 1, true);
+        Check.due("work and test leave it", x.induction(0), 3);
+    }
+
+    private static void noRow(Counted x, String why) {
+        Check.due(why + ": unfold", x.unfold(0, 0), STATE);
+        Check.due(why + ": unfold at no place", x.unfold(1, 99), STATE);
+        Check.due(why + ": law", x.law(0, false, 0, 0), STATE);
+        Check.due(why + ": hypothesis", x.hypothesis(0, false, 0, 0), STATE);
+        Check.due(why + ": hypothesis of none", x.hypothesis(-1, false, 0, 0), STATE);
+        Check.due(why + ": induction", x.induction(0), STATE);
+        Check.due(why + ": induction of none", x.induction(-1), STATE);
+        Check.due(why + ": cases", x.cases(0, 0), STATE);
+        Check.due(why + ": same", x.same(), STATE);
+        Check.due(why + ": parts", x.parts(), STATE);
+        Check.due(why + ": search", x.search(1), STATE);
+        Check.due(why + ": show", x.show(0, 0), STATE);
+        Check.due(why + ": showHypothesis", x.showHypothesis(0, 0), STATE);
+        Check.due(why + ": OUTSIDE is ahead of it", x.unfold(2, 0), OUTSIDE);
+        Check.due(why + ": of search, too", x.search(0), OUTSIDE);
+        Check.due(why + ": goals", x.count(5), 0);
+        Check.due(why + ": hypotheses", x.count(7), 0);
+    }
+
+    private static void unfolding() {
+        Check.sentence("UNFOLD: a call at a place becomes what its rule says, or _; it must not WAIT");
+        Counted x = Check.with(Check.NUMBERS + "fun un:N>N;law a:add (un x) (S (add _ (add Z x)))=S _;");
+        x.begin(0, true);
+        Check.due("it waits for a call", x.unfold(0, 0), WRONG);
+        Check.due("a constructor", x.unfold(0, 2), WRONG);
+        Check.due("a variable", x.unfold(0, 11), WRONG);
+        Check.due("_", x.unfold(0, 211), WRONG);
+        Check.due("_ at the right", x.unfold(1, 1), WRONG);
+        Check.due("a constructor, the whole", x.unfold(1, 0), WRONG);
+        Check.due("what its rule says", x.unfold(0, 212), 1);
+        Check.due("then", Check.goal(x, 0), "add (un v0) (S (add _ v0)) = S _");
+        Check.due("its argument is undefined", x.unfold(0, 21), 1);
+        Check.due("then", Check.goal(x, 0), "add (un v0) (S _) = S _");
+        Check.due("no rule", x.unfold(0, 1), 1);
+        Check.due("then", Check.goal(x, 0), "add _ (S _) = S _");
+        Check.due("it waits no more", x.unfold(0, 0), 1);
+        Check.due("then", Check.goal(x, 0), "_ = S _");
+        Check.due("goals", x.count(5), 1);
+        Check.due("rows", x.count(6), 4);
+    }
+
+    private static void provedLaws() {
+        Check.sentence("A law must be PROVED: FULL, or the proof is FINITE");
+        for (int proved = 0; proved <= 2; proved++) {
+            for (int full = 0; full <= 1; full++) {
+                Counted x = Check.with(LAWS);
+                if (proved > 0) {
+                    x.begin(0, proved == 2);
+                    Check.due("search", x.search(50) > 0 ? 1 : 0, 1);
+                }
+                Check.due("it is proved", x.about(0, 0), proved);
+                x.begin(0, full == 1);
+                int want = proved == 2 || proved == 1 && full == 0 ? 1 : WRONG;
+                Check.due("proved " + proved + ", used in " + full, x.law(0, false, 0, 0), want);
+                Check.due("rows", x.count(6), want == 1 ? 1 : 0);
+            }
+        }
+        Check.sentence("When a text has a rule, no law is PROVED any more");
+        Counted x = Check.with(LAWS);
+        x.begin(0, true);
+        x.search(50);
+        Check.read(x, "law e:add x Z=x;data B=T;fun u:N;");
+        Check.due("without a rule it is", x.about(0, 0), 2);
+        Check.read(x, "rule u=Z;rule u=");
+        Check.due("with a fault it is", x.about(0, 0), 2);
+        Check.read(x, "rule u=Z;");
+        Check.due("with a rule it is not", x.about(0, 0), 0);
+        x.begin(0, false);
+        Check.due("nor may it be used", x.law(0, false, 0, 0), WRONG);
+        Check.sentence("FULL is more");
+        x.search(50);
+        Check.due("FINITE", x.about(0, 0), 1);
+        x.begin(0, true);
+        x.search(50);
+        Check.due("then FULL", x.about(0, 0), 2);
+        x.begin(0, false);
+        x.search(50);
+        Check.due("then FINITE: it stays FULL", x.about(0, 0), 2);
+    }
+
+    private static void freeVariables() {
+        Check.sentence("the other side has no free variable that the one has not");
+        Counted x = Check.with("data B=T|F;data N=Z|S N;fun f:N>N>N;rule f x y=x;fun u:B>B;rule u x=x;"
+                + "law a:f x y=x;law b:f x x=x;law c:u x=x;law d:f (f x y) (f y x)=f x y;law e:f x (f _ y)=S _;"
+                + "law g:u (u T)=u _;");
+        for (int law : new int[] {0, 1, 2}) {
+            x.begin(law, true);
+            Check.due("search", x.search(9) > 0 ? 1 : 0, 1);
+        }
+        x.begin(3, true);
+        Check.due("back, with one more", x.law(0, true, 0, 0), WRONG);
+        Check.due("back, with none more", x.law(1, true, 0, 12), 1);
+        Check.due("then", Check.goal(x, 0), "f (f v0 (f v1 v1)) (f v1 v0) = f v0 v1");
+        Check.due("not just like the one side", x.law(1, false, 0, 1), WRONG);
+        Check.due("twice the same", x.law(1, false, 0, 12), 1);
+        Check.due("whatever stands for it", x.law(0, false, 0, 2), 1);
+        Check.due("then", Check.goal(x, 0), "f (f v0 v1) v1 = f v0 v1");
+        Check.sentence("in place of which anything of their type may stand");
+        Check.due("a variable of another type", x.law(2, true, 0, 2), WRONG);
+        Check.due("a call of another type", x.law(2, true, 0, 0), WRONG);
+        x.begin(4, true);
+        Check.due("a constructor of another type", x.law(2, true, 1, 0), WRONG);
+        x.begin(5, true);
+        Check.due("a constructor of its type", x.law(2, true, 0, 11), 1);
+        Check.due("a call of its type", x.law(2, true, 0, 0), 1);
+        Check.due("_", x.law(2, true, 1, 1), 1);
+        Check.due("then", Check.goal(x, 0), "u (u (u (u T))) = u (u _)");
+    }
+
+    private static void sureVariables() {
+        Check.sentence("only what is made of constructors and SURE variables alone");
+        // Laws a and b are proved FULL, and FINITE; c has what is used in their places.
+        String[] terms = {"x", "Z", "S Z", "S (S x)", "_", "S _", "k", "S k", "add Z Z", "S (add x Z)"};
+        for (String term : terms) {
+            boolean sure = term.indexOf('_') < 0 && term.indexOf('k') < 0 && term.indexOf('a') < 0;
+            for (int proved = 1; proved <= 2; proved++) {
+                Counted x = Check.with(Check.NUMBERS + "fun k:N;law a:add x Z=x;law c:add (" + term + ") Z=add x Z;");
+                x.begin(0, proved == 2);
+                x.search(50);
+                x.begin(1, false);
+                Check.due("law " + proved + " on " + term, x.law(0, false, 0, 0), sure || proved == 2 ? 1 : WRONG);
+                x.begin(1, true);
+                Check.due("law " + proved + " in FULL on " + term, x.law(0, false, 0, 0), proved == 2 ? 1 : WRONG);
+            }
+        }
+        Counted x = Check.with(Check.NUMBERS + "fun k:N;law a:add x Z=x;law b:add k Z=k;");
+        x.begin(0, false);
+        x.search(50);
+        x.begin(1, false);
+        Check.due("cases of a call", x.cases(1, 0), 3);
+        x.unfold(0, 0);
+        x.same();
+        x.unfold(0, 0);
+        x.same();
+        Check.due("its variable", Check.goal(x, 0), "add (S v0) Z = S v0");
+        Check.due("is not SURE", x.law(0, false, 0, 0), WRONG);
+        x.begin(0, false);
+        x.cases(0, 1);
+        x.unfold(0, 0);
+        x.same();
+        Check.due("what comes of a SURE one", Check.goal(x, 0), "add (S v1) Z = S v1");
+        Check.due("is SURE", x.law(0, false, 0, 0), 1);
+    }
+
+    private static void fixedVariables() {
+        Check.sentence("INDUCTION over a variable that is not FIXED");
+        Counted x = Check.with("data N=Z|S N;data P=P N N;fun w:N>N>N;law a:w x y=w x y;law b:P (w x y) y=P (w x y) y;");
+        x.begin(0, false);
+        x.induction(0);
+        x.same();
+        Check.due("a new one is", x.induction(2), WRONG);
+        Check.due("the other is not", x.induction(1), 2);
+        x.begin(0, false);
+        x.cases(0, 1);
+        x.same();
+        Check.due("of cases it is not", x.induction(2), 2);
+        x.begin(0, false);
+        x.cases(0, 0);
+        Check.due("those of a call have gone", x.induction(0), WRONG);
+        x.begin(1, false);
+        Check.due("cases of a call", x.cases(0, 1), 3);
+        Check.due("the variable of the call", x.induction(1), WRONG);
+        Check.due("cases of it are fine", x.cases(0, 2), 4);
+        x.same();
+        Check.due("then", Check.goal(x, 0), "P _ (S v3) = P _ (S v3)");
+        Check.due("its hypothesis has what stands for it", Check.hypothesis(x, 0), "w v0 (S v3) = _");
+        Check.due("what comes of it is FIXED, too", x.induction(3), WRONG);
+        x.same();
+        x.same();
+        Check.due("the third goal", Check.goal(x, 0), "P (S v2) v1 = P (S v2) v1");
+        Check.due("a call's new variable is FIXED", x.induction(2), WRONG);
+        Check.due("the call's own one, too", x.induction(1), WRONG);
+    }
+
+    private static void casesOfNothing() {
+        Check.sentence("CASES: (A constructor or _: no.)");
+        Counted x = Check.with("data N=Z|S N;fun f:N>N;law a:f (S _)=S (f Z);");
+        x.begin(0, true);
+        Check.due("a constructor with arguments", x.cases(0, 1), WRONG);
+        Check.due("_", x.cases(0, 11), WRONG);
+        Check.due("a constructor outside", x.cases(1, 0), WRONG);
+        Check.due("a constructor without arguments", x.cases(1, 11), WRONG);
+        Check.due("no such place", x.cases(1, 2), WRONG);
+        Check.due("nothing was done", x.count(6), 0);
+        Check.due("a call", x.cases(1, 1), 3);
+        Check.due("the call at the other side is another one", Check.goal(x, 0), "f (S _) = S _");
+    }
+
+    private static void sameSides() {
+        Check.sentence("SAME: both sides are one term");
+        String base = "data N=Z|S N;fun f:N>N>N;";
+        same(base, "f x y", "f x y", 0);
+        same(base, "f x y", "f y x", WRONG);
+        same(base, "f x Z", "f x x", WRONG);
+        same(base, "f x _", "f x _", 0);
+        same(base, "Z", "Z", 0);
+        same(base, "Z", "_", WRONG);
+        same(base, "S Z", "S (S Z)", WRONG);
+        same(base, "S (S Z)", "S Z", WRONG);
+        same(base, "f x (S y)", "f x (S y)", 0);
+    }
+
+    private static void same(String base, String left, String right, int want) {
+        Counted x = Check.with(base + "law a:" + left + "=" + right + ";");
+        x.begin(0, true);
+        Check.due("same of " + left + " and " + right, x.same(), want);
+        Check.due("goals", x.count(5), want == 0 ? 0 : 1);
+        Check.due("rows", x.count(6), want == 0 ? 1 : 0);
+        Check.due("proved", x.about(0, 0), want == 0 ? 2 : 0);
+    }
+
+    private static void oneConstructor() {
+        Check.sentence("PARTS: both sides have one constructor outside: a goal for each argument (of one without: none)");
+        String base = "data N=Z|Y|S N|C N N N;fun f:N>N;";
+        parts(base, "Z", "Z", 0);
+        parts(base, "Z", "Y", WRONG);
+        parts(base, "S Z", "S Y", 1);
+        parts(base, "S x", "C x x x", WRONG);
+        parts(base, "C x y Z", "C y x Z", 3);
+        parts(base, "S x", "x", WRONG);
+        parts(base, "S x", "_", WRONG);
+        parts(base, "f x", "f x", WRONG);
+        parts(base, "f x", "S x", WRONG);
+        parts(base, "S x", "f x", WRONG);
+        Counted x = Check.with(base + "law a:C x y Z=C y (f x) Y;");
+        x.begin(0, true);
+        x.parts();
+        Check.due("the first argument", Check.goal(x, 0), "v0 = v1");
+        Check.due("the second argument", Check.goal(x, 1), "v1 = f v0");
+        Check.due("the third argument", Check.goal(x, 2), "Z = Y");
+    }
+
+    private static void parts(String base, String left, String right, int want) {
+        Counted x = Check.with(base + "law a:" + left + "=" + right + ";");
+        x.begin(0, false);
+        Check.due("parts of " + left + " and " + right, x.parts(), want);
+        Check.due("goals", x.count(5), want == WRONG ? 1 : want);
+        Check.due("rows", x.count(6), want == WRONG ? 0 : 1);
+        Check.due("proved", x.about(0, 0), want == 0 ? 1 : 0);
+    }
+
+    private static void proofIsDone() {
+        Check.sentence("A proof is done when there is no goal; the law is PROVED then");
+        Counted x = Check.with("data P=P P P|Z;law a:P Z x=P Z x;law b:Z=Z;");
+        x.begin(0, true);
+        Check.due("two goals", x.parts(), 2);
+        Check.due("one goal", x.same(), 1);
+        Check.due("not yet", x.about(0, 0), 0);
+        Check.due("no goal", x.same(), 0);
+        Check.due("proved", x.about(0, 0), 2);
+        Check.due("rows of what is done", x.count(6), 3);
+        Check.due("not the other law", x.about(1, 0), 0);
+        Check.due("begin again", x.begin(0, false), 1);
+        Check.due("no rows then", x.count(6), 0);
+        Check.due("it stays proved", x.about(0, 0), 2);
+    }
+}
