@@ -80,7 +80,11 @@ public final class EdgeLimitsTest {
             Check.due("the kind", x.fault(), many == 17 ? 5 : 0);
             Check.due("so many are told", x.count(1), many == 17 ? 0 : many);
         }
-        Counted x = Check.with("data A=A0|A1|A2|A3|A4|A5|A6|A7|A8|A9|Aa|Ab|Ac|Ad|Ae|Af;");
+        String sixteen = "data A=A0|A1|A2|A3|A4|A5|A6|A7|A8|A9|Aa|Ab|Ac|Ad|Ae|Af";
+        Counted y = new Counted();
+        Check.due("seventeen of one type", Check.read(y, sixteen + "|Ag;"), -1000 - sixteen.length() - 1);
+        Check.due("their kind", y.fault(), 5);
+        Counted x = Check.with(sixteen + ";");
         Check.due("one more in another text", Check.read(x, "data B=B0;"), -1007);
         Check.due("its kind", x.fault(), 5);
         Check.due("its type is not told, either", x.count(0), 1);

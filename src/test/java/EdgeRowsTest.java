@@ -22,6 +22,7 @@ public final class EdgeRowsTest {
         freeVariables();
         sureVariables();
         fixedVariables();
+        fixedButFree();
         casesOfNothing();
         sameSides();
         oneConstructor();
@@ -157,6 +158,52 @@ public final class EdgeRowsTest {
             Check.due("hypothesis " + k, Check.hypothesis(x, k), want[k] + " = " + want[k]);
         }
         usedHypotheses();
+        freeInFull();
+        bareSide();
+    }
+
+    private static void freeInFull() {
+        Check.sentence("HYPOTHESES' variables are FREE: in a FULL proof anything of their type may stand there");
+        for (String term : new String[] {"x", "_", "k", "S k", "add x Z", "Z"}) {
+            Counted x = Check.with(Check.NUMBERS + "fun k:N;fun p:N>N>N;rule p x Z=Z;rule p x (S y)=S (p x y);"
+                    + "law a:p x y=y;law b:add Z (" + term + ")=" + term + ";");
+            x.begin(1, true);
+            x.search(9);
+            x.begin(0, true);
+            x.induction(1);
+            x.unfold(0, 0);
+            x.same();
+            x.unfold(0, 0);
+            x.same();
+            x.unfold(0, 0);
+            Check.due("the step", Check.goal(x, 0), "S (p v0 v2) = S v2");
+            Check.due("its hypothesis", Check.hypothesis(x, 0), "p f0 v2 = v2");
+            Check.due("on v0", x.hypothesis(0, false, 0, 1), 1);
+        }
+    }
+
+    private static void bareSide() {
+        Check.sentence("FREE: anything of their type may stand there, on a side that is a variable alone, too");
+        Counted x = Check.with("data N=Z|S N;data B=T|F;fun p:N>B>B;rule p Z y=y;rule p (S x) y=p x y;fun q:N>N;rule q x=x;"
+                + "law a:p x y=y;law b:q x=x;fun w:N>B>N>B;law c:w x (p x y) (q x)=w x (p x y) (q x);");
+        x.begin(1, true);
+        x.search(9);
+        x.begin(0, false);
+        x.induction(0);
+        x.unfold(0, 0);
+        x.same();
+        Check.due("the step", Check.goal(x, 0), "p (S v2) v1 = v1");
+        Check.due("its hypothesis", Check.hypothesis(x, 0), "p v2 f1 = f1");
+        // A law has been looked at between.
+        Check.due("law b on another type", x.law(1, true, 0, 0), WRONG);
+        Check.due("back on a call of another proof's type: not SURE", x.hypothesis(0, true, 0, 0), WRONG);
+        Check.due("law b, back on a number", x.law(1, true, 0, 1), 1);
+        Check.due("the hypothesis, back on a number", x.hypothesis(0, true, 0, 11), WRONG);
+        Check.due("the hypothesis, back on a number inside", x.hypothesis(0, true, 0, 111), WRONG);
+        Check.due("the hypothesis, back on its type", x.hypothesis(0, true, 1, 0), 1);
+        Check.due("then", Check.goal(x, 0), "p (q (S v2)) v1 = p v2 v1");
+        Check.due("and once more", x.hypothesis(0, true, 1, 2), 1);
+        Check.due("then", Check.goal(x, 0), "p (q (S v2)) v1 = p v2 (p v2 v1)");
     }
 
     private static void usedHypotheses() {
@@ -326,6 +373,7 @@ public final class EdgeRowsTest {
         Check.due("twice the same", x.law(1, false, 0, 12), 1);
         Check.due("whatever stands for it", x.law(0, false, 0, 2), 1);
         Check.due("then", Check.goal(x, 0), "f (f v0 v1) v1 = f v0 v1");
+        twiceTheSame();
         Check.sentence("in place of which anything of their type may stand");
         Check.due("a variable of another type", x.law(2, true, 0, 2), WRONG);
         Check.due("a call of another type", x.law(2, true, 0, 0), WRONG);
@@ -336,6 +384,21 @@ public final class EdgeRowsTest {
         Check.due("a call of its type", x.law(2, true, 0, 0), 1);
         Check.due("_", x.law(2, true, 1, 1), 1);
         Check.due("then", Check.goal(x, 0), "u (u (u (u T))) = u (u _)");
+    }
+
+    private static void twiceTheSame() {
+        String[] sides = {"f Z Z", "f (S Z) (S Z)", "f x x", "f (f x y) (f x y)", "f _ _", "f (S Z) Z", "f Z (S Z)",
+            "f x y", "f (f x y) (f y x)", "f _ x", "f (S (S Z)) (S Z)"};
+        for (int k = 0; k < sides.length; k++) {
+            Counted x = Check.with("data N=Z|S N;fun f:N>N>N;rule f x y=x;law a:f x x=x;law b:" + sides[k] + "=Z;law c:S ("
+                    + sides[k] + ")=Z;");
+            x.begin(0, true);
+            x.search(9);
+            x.begin(1, true);
+            Check.due("f x x on " + sides[k], x.law(0, false, 0, 0), k < 5 ? 1 : WRONG);
+            x.begin(2, true);
+            Check.due("f x x inside, on " + sides[k], x.law(0, false, 0, 1), k < 5 ? 1 : WRONG);
+        }
     }
 
     private static void sureVariables() {
@@ -401,6 +464,38 @@ public final class EdgeRowsTest {
         Check.due("the third goal", Check.goal(x, 0), "P (S v2) v1 = P (S v2) v1");
         Check.due("a call's new variable is FIXED", x.induction(2), WRONG);
         Check.due("the call's own one, too", x.induction(1), WRONG);
+    }
+
+    private static void fixedButFree() {
+        Check.sentence("then hypotheses have what stands in its place, too, where it is not free");
+        Counted x = Check.with("data N=Z|S N;data P=P N N;fun w:N>N>N;law a:P (w x y) y=P (w x y) y;");
+        x.begin(0, false);
+        x.induction(0);
+        x.same();
+        Check.due("v1 is free", Check.hypothesis(x, 0), "P (w v2 f1) f1 = P (w v2 f1) f1");
+        Check.due("cases of a call fix v1", x.cases(0, 1), 3);
+        Check.due("its hypothesis", Check.hypothesis(x, 1), "w (S v2) v1 = _");
+        Check.due("cases of v1", x.cases(0, 2), 4);
+        Check.due("where it is free it stays", Check.hypothesis(x, 0), "P (w v2 f1) f1 = P (w v2 f1) f1");
+        Check.due("where it is not it is replaced", Check.hypothesis(x, 1), "w (S v2) Z = _");
+        x.same();
+        Check.due("the next goal, free", Check.hypothesis(x, 0), "P (w v2 f1) f1 = P (w v2 f1) f1");
+        Check.due("the next goal, not free", Check.hypothesis(x, 1), "w (S v2) (S v4) = _");
+        x = Check.with("data N=Z|S N N N;fun m:N>N;fun l:N>N;law a:m x=l x;");
+        x.begin(0, false);
+        x.induction(0);
+        x.unfold(0, 0);
+        x.unfold(1, 0);
+        x.same();
+        Check.due("the step", Check.goal(x, 0), "m (S v1 v2 v3) = l (S v1 v2 v3)");
+        Check.due("cases of the third", x.cases(1, 13), 2);
+        Check.due("hypothesis 0", Check.hypothesis(x, 0), "m v1 = l v1");
+        Check.due("hypothesis 1", Check.hypothesis(x, 1), "m v2 = l v2");
+        Check.due("hypothesis 2", Check.hypothesis(x, 2), "m Z = l Z");
+        Check.due("cases of the second", x.cases(0, 12), 3);
+        Check.due("hypothesis 0", Check.hypothesis(x, 0), "m v1 = l v1");
+        Check.due("hypothesis 1", Check.hypothesis(x, 1), "m Z = l Z");
+        Check.due("hypothesis 2", Check.hypothesis(x, 2), "m Z = l Z");
     }
 
     private static void casesOfNothing() {

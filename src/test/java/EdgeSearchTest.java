@@ -103,6 +103,23 @@ public final class EdgeSearchTest {
         x.unfold(1, 0);
         Check.due("rows go on", x.count(6), 4);
         Check.due("goal 0", Check.goal(x, 0), "_ = _");
+        sureAsItWas();
+    }
+
+    /** A search gives SURE variables their numbers; when it fails, one comes to another, which is not SURE. */
+    private static void sureAsItWas() {
+        Counted x = Check.with("data N=Z|S N;fun k:N>N;rule k Z=Z;rule k (S x)=S (k x);fun m:N>N;rule m Z=Z;rule m (S x)=Z;"
+                + "law a:m (k x)=k x;");
+        x.begin(0, false);
+        Check.due("a search with new variables", x.search(500), 0);
+        Check.due("cases of a call", x.cases(0, 1), 3);
+        for (int goals = 2; goals >= 1; goals--) {
+            x.unfold(0, 0);
+            Check.due("same", x.same(), goals);
+        }
+        Check.due("its new variable", Check.goal(x, 0), "m (S v1) = S v1");
+        Check.due("is not SURE", x.cases(1, 1), 3);
+        Check.due("so that it may be undefined", Check.goal(x, 0), "m (S _) = S _");
     }
 
     private static void fourSplits() {
@@ -381,12 +398,22 @@ public final class EdgeSearchTest {
         Counted x = Check.with(text + "law a:c (f x) (g y)=Z;law b:c (g y) (f x)=Z;law d:c Z (f x)=c (g y) Z;"
                 + "law e:c (c (f x) Z) (g y)=Z;");
         int[] rows = {1 + 2 * (2 + 3 * 3), 1 + 3 * (2 + 2 * 3), 1 + 2 * (3 + 3 * 3), 1 + 2 * (3 + 3 * 3)};
+        waitsForNothing();
         for (int law = 0; law < rows.length; law++) {
             x.begin(law, false);
             Check.due("law " + law, x.search(500), rows[law]);
             x.begin(law, false);
             Check.due("one row too few", x.search(rows[law] - 1), 0);
         }
+    }
+
+    /** The first variable of the law is wanted by no call: the first call wants y, the other one z. */
+    private static void waitsForNothing() {
+        Counted x = Check.with("data B=T|F;data K=A1|A2|A3;data P=P K B;fun f:B>B;rule f T=T;rule f F=T;fun h:B>K>P;"
+                + "rule h T x=P x T;rule h F x=P x T;law a:P x (f y)=h z x;");
+        x.begin(0, false);
+        // y; twice: unfold, z; twice: unfold, same.
+        Check.due("a variable that no call wants", x.search(500), 1 + 2 * (1 + 1 + 2 * 2));
     }
 
     private static void fixedOrNot() {

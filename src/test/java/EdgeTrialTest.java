@@ -1,3 +1,6 @@
+import java.util.ArrayList;
+import java.util.List;
+
 /** The boundaries of promises 10 and 11: test, told. */
 public final class EdgeTrialTest {
     private static final String TEN = "data K=A0|A1|A2|A3|A4|A5|A6|A7|A8|A9;";
@@ -8,6 +11,9 @@ public final class EdgeTrialTest {
         rowsOfOneVariable();
         rowsOfSeveral();
         noValues();
+        oneValue();
+        orderOfValues();
+        orderOfUnfinished();
         steps300();
         names120();
         firstRow();
@@ -104,6 +110,81 @@ public final class EdgeTrialTest {
         Check.due("no row: all were DONE", x.test(0, 6, false), 0);
         Check.due("nothing is told", x.told(0), EquationProofs.STATE);
         Check.due("with _ there are rows", x.test(0, 1, true), 1);
+    }
+
+    private static void oneValue() {
+        Check.sentence("all values: a type may have one alone");
+        Counted x = Check.with("data O=O1;data B=T|F;fun f:O>B>O>B>B;rule f x T y z=T;rule f x F y F=T;law a:f a b c d=T;");
+        Check.due("four rows", x.test(0, 6, false), 1);
+        String[] values = {"O1", "F", "O1", "T"};
+        for (int v = 0; v < values.length; v++) {
+            Check.due("told(" + v + ")", x.told(v), values[v].length());
+            Check.due("printed", Check.printed(x), values[v]);
+        }
+    }
+
+    /** Values of W with so many names, in order; with _ , or without. */
+    private static List<String> values(int names, boolean all) {
+        List<String> found = new ArrayList<>();
+        if (names == 1) {
+            if (all) {
+                found.add("_");
+            }
+            found.add("A");
+        }
+        for (String value : names > 1 ? values(names - 1, all) : new ArrayList<String>()) {
+            found.add("B " + atom(value));
+        }
+        for (int first = 1; first < names - 1; first++) {
+            for (String one : values(first, all)) {
+                for (String other : values(names - 1 - first, all)) {
+                    found.add("D " + atom(one) + " " + atom(other));
+                }
+            }
+        }
+        return found;
+    }
+
+    private static String atom(String value) {
+        return value.length() > 1 ? "(" + value + ")" : value;
+    }
+
+    private static void orderOfValues() {
+        Check.sentence("VALUES go by how many constructors they have, then constructors, then the first argument's place");
+        List<String> all = new ArrayList<>();
+        for (int names = 1; names <= 6; names++) {
+            all.addAll(values(names, false));
+        }
+        Check.due("values with six names at most", all.size(), 1 + 1 + 2 + 4 + 9 + 21);
+        for (int k = 0; k + 1 < all.size(); k++) {
+            // It is not true of two values alone; the first of them is told.
+            Counted x = Check.with("data W=A|B W|D W W;fun f:W>W;rule f " + atom(all.get(k + 1)) + "=A;rule f "
+                    + atom(all.get(k)) + "=A;law a:f x=_;");
+            Check.due("test of " + all.get(k), x.test(0, 6, false), 1);
+            Check.due("told", x.told(0), all.get(k).length());
+            Check.due("printed", Check.printed(x), all.get(k));
+        }
+    }
+
+    private static void orderOfUnfinished() {
+        Check.sentence("VALUES: _ ahead of the constructors in order");
+        List<String> all = new ArrayList<>();
+        for (int names = 1; names <= 5; names++) {
+            all.addAll(values(names, true));
+        }
+        for (int k = 0; k < all.size(); k++) {
+            // What is wanted of the value, but for its _ , is true first of the value itself.
+            String pattern = atom(all.get(k));
+            for (char name = 'a'; pattern.indexOf('_') >= 0; name++) {
+                pattern = pattern.replaceFirst("_", String.valueOf(name));
+            }
+            if (pattern.startsWith("(")) {
+                Counted x = Check.with("data W=A|B W|D W W;fun f:W>W;rule f " + pattern + "=A;law a:f x=_;");
+                Check.due("test of " + all.get(k), x.test(0, 5, true), 1);
+                Check.due("told", x.told(0), all.get(k).length());
+                Check.due("printed", Check.printed(x), all.get(k));
+            }
+        }
     }
 
     private static void steps300() {
