@@ -20,6 +20,7 @@ public final class EdgeRoomTest {
         namesBySplitting();
         namesByCalls();
         namesOfHypotheses();
+        wrongAheadOfRoom();
         Check.finish();
     }
 
@@ -388,6 +389,48 @@ public final class EdgeRoomTest {
         int most = names + 2 * variables;
         row(x, most + " names of the hypothesis", x.cases(0, 111), most <= 60 ? 2 : ROOM);
         Check.due("the hypothesis, too", x.showHypothesis(0, 1), most <= 60 ? "h (S D1)".length() : "h (S v2)".length());
+    }
+
+    private static void wrongAheadOfRoom() {
+        Check.sentence("of several the first one here: .. OUTSIDE, STATE, WRONG, ROOM");
+        Counted x = Check.with("data K=A K|B|C|D|E|F|G|H|I|J|L|M;data P=P K K K;fun f:K>K>K;law a:f x y=f x y;"
+                + "law b:P x y z=P x y z;");
+        x.begin(0, false);
+        Check.due("twelve goals", x.induction(0), 12);
+        Check.due("a FIXED variable", x.induction(2), WRONG);
+        Check.due("no variable", x.induction(7), WRONG);
+        Check.due("one that is not FIXED", x.induction(1), ROOM);
+        Check.due("cases of a constructor", x.cases(0, 1), WRONG);
+        Check.due("cases of the variable in it", x.cases(0, 11), ROOM);
+        Check.due("cases of no place", x.cases(0, 3), WRONG);
+        Check.due("cases of side 2", x.cases(2, 11), EquationProofs.OUTSIDE);
+        Check.due("cases of a call", x.cases(0, 0), ROOM);
+        Check.due("parts of calls", x.parts(), WRONG);
+        x.begin(1, false);
+        x.cases(0, 1);
+        Check.due("parts", x.parts(), ROOM);
+        Check.due("parts give one more than there were", x.same(), 11);
+        Check.due("parts of B", x.parts(), ROOM);
+        x.same();
+        Check.due("parts of C", x.parts(), 12);
+        namesOfWhatIsWrong();
+    }
+
+    private static void namesOfWhatIsWrong() {
+        String left = "t " + Check.atom(30) + " x";
+        Counted x = Check.with(GROW + "fun k:Q>Q>Q;rule k U y=C y y y;law a:t x y=C x x y;law b:" + left + "=k x "
+                + Check.atom(30) + ";");
+        x.begin(1, true);
+        Check.due("a law that is not proved", x.law(0, false, 0, 0), WRONG);
+        Check.due("unfold", x.unfold(0, 0), ROOM);
+        Check.due("a call that waits", x.unfold(1, 0), WRONG);
+        x.begin(0, true);
+        x.search(9);
+        x.begin(1, true);
+        Check.due("a law that is proved", x.law(0, false, 0, 0), ROOM);
+        Check.due("at another place", x.law(0, false, 0, 1), WRONG);
+        Check.due("at a place below 0", x.law(0, false, 0, -1), EquationProofs.OUTSIDE);
+        Check.due("a law that is none", x.law(2, false, 0, 0), EquationProofs.UNKNOWN);
     }
 
     /** The answer of a row, and that one which is refused is none. */
