@@ -20,6 +20,8 @@ public final class EdgeRowsTest {
         unfolding();
         provedLaws();
         freeVariables();
+        undefinedOfAnyType();
+        noPlace();
         sureVariables();
         fixedVariables();
         fixedButFree();
@@ -345,6 +347,7 @@ public final class EdgeRowsTest {
         Check.due("with a rule it is not", x.about(0, 0), 0);
         x.begin(0, false);
         Check.due("nor may it be used", x.law(0, false, 0, 0), WRONG);
+        allSixteen();
         Check.sentence("FULL is more");
         x.search(50);
         Check.due("FINITE", x.about(0, 0), 1);
@@ -354,6 +357,23 @@ public final class EdgeRowsTest {
         x.begin(0, false);
         x.search(50);
         Check.due("then FINITE: it stays FULL", x.about(0, 0), 2);
+    }
+
+    private static void allSixteen() {
+        StringBuilder laws = new StringBuilder("data N=Z;fun k:N;");
+        for (int l = 0; l < 16; l++) {
+            laws.append("law l").append((char) ('a' + l)).append(":k=k;");
+        }
+        Counted x = Check.with(laws.toString());
+        for (int l = 0; l < 16; l++) {
+            x.begin(l, l % 2 == 0);
+            Check.due("same", x.same(), 0);
+            Check.due("proved", x.about(l, 0), l % 2 == 0 ? 2 : 1);
+        }
+        Check.read(x, "rule k=Z;");
+        for (int l = 0; l < 16; l++) {
+            Check.due("law " + l + " of 16", x.about(l, 0), 0);
+        }
     }
 
     private static void freeVariables() {
@@ -384,6 +404,55 @@ public final class EdgeRowsTest {
         Check.due("a call of its type", x.law(2, true, 0, 0), 1);
         Check.due("_", x.law(2, true, 1, 1), 1);
         Check.due("then", Check.goal(x, 0), "u (u (u (u T))) = u (u _)");
+    }
+
+    private static void undefinedOfAnyType() {
+        Check.sentence("_ is of any type: it may stand for a variable of each");
+        Counted x = Check.with("data A=A0;data B=B0;data C=C0;data P=P A B C;fun a:A>A;rule a x=x;fun b:B>B;rule b x=x;"
+                + "fun c:C>C;rule c x=x;law a:a x=x;law b:b x=x;law c:c x=x;law d:P _ _ _=P x y z;");
+        for (int law = 0; law <= 2; law++) {
+            x.begin(law, true);
+            x.search(9);
+        }
+        for (int law = 0; law <= 2; law++) {
+            for (int place = 1; place <= 3; place++) {
+                x.begin(3, true);
+                Check.due("law " + law + " back on _ at " + place, x.law(law, true, 0, place), 1);
+                Check.due("law " + law + " back on a variable at " + place, x.law(law, true, 1, place),
+                        place == law + 1 ? 1 : WRONG);
+            }
+        }
+    }
+
+    private static void noPlace() {
+        Check.sentence("WRONG (a row cannot be done: there is no such place): also for a side that is a variable, or _");
+        Counted x = Check.with("data O=O1|O2 O;data Q=Q1;fun u:O>O;law a:u x=_;law b:Q1=x;law c:u (u x)=u x;"
+                + "law d:Q1=Q1;");
+        x.begin(0, true);
+        Check.due("law a", x.search(9), 2);
+        x.begin(1, false);
+        Check.due("law b", x.search(9), 0);
+        x.induction(0);
+        Check.due("law b by hand", x.same(), 0);
+        x.begin(2, false);
+        for (int place : new int[] {2, 10, 111, 1111, 5, 9}) {
+            Check.due("law a back at " + place, x.law(0, true, 1, place), WRONG);
+            Check.due("law a at " + place, x.law(0, false, 1, place), WRONG);
+            Check.due("law b back at " + place, x.law(1, true, 1, place), WRONG);
+        }
+        x.unfold(1, 0);
+        Check.due("law a back on _", x.law(0, true, 1, 0), WRONG);
+        x.begin(3, false);
+        Check.due("law b back", x.law(1, true, 0, 0), 1);
+        Check.due("law b back at 1", x.law(1, true, 0, 1), WRONG);
+        x.begin(2, true);
+        x.cases(0, 1);
+        Check.due("a hypothesis", Check.hypothesis(x, 0), "u v0 = _");
+        for (int place : new int[] {2, 10, 111, 5}) {
+            Check.due("the hypothesis back at " + place, x.hypothesis(0, true, 0, place), WRONG);
+            Check.due("the hypothesis back at the right, at " + place, x.hypothesis(0, true, 1, place), WRONG);
+        }
+        Check.due("the hypothesis back on _", x.hypothesis(0, true, 0, 1), 3);
     }
 
     private static void twiceTheSame() {

@@ -286,6 +286,11 @@ public final class EdgeSearchTest {
         Check.due("UNFOLD ahead of PARTS", x.search(500), 2);
         x.begin(4, false);
         Check.due("UNFOLD and SAME ahead of PARTS and INDUCTION", x.search(500), 2);
+        x = Check.with("data N=Z;fun lp:N;rule lp=lp;fun a:N;rule a=lp;law a:a=lp;law b:lp=a;");
+        x.begin(0, true);
+        Check.due("side 0 first: then both are the same", x.search(500), 2);
+        x.begin(1, true);
+        Check.due("side 0 first: it has no end", x.search(500), 0);
         x = Check.with("data B=T|F;data P=P B B;fun q:B>B;rule q T=T;rule q F=T;law a:P (q x) (q x)=P T T;");
         x.begin(0, false);
         // Parts, then twice: induction, twice unfold and same. Without parts first: 1 + 2 * (2 + 1).

@@ -12,6 +12,7 @@ public final class EdgeTrialTest {
         rowsOfSeveral();
         noValues();
         oneValue();
+        sixOfAll();
         orderOfValues();
         orderOfUnfinished();
         steps300();
@@ -121,6 +122,19 @@ public final class EdgeTrialTest {
             Check.due("told(" + v + ")", x.told(v), values[v].length());
             Check.due("printed", Check.printed(x), values[v]);
         }
+    }
+
+    private static void sixOfAll() {
+        Check.sentence("TYPES (6 at most), CONSTRUCTORS (16 in all), variables (6 at most): a law over all of them");
+        Counted x = Check.with("data A=A1|A2|A3;data B=B1|B2|B3;data C=C1|C2|C3;data D=D1|D2|D3;data E=E1 A B C;"
+                + "data F=F1 D D E|F2|F3;fun f:F>B>F;rule f (F1 D3 D2 (E1 A3 B3 C3)) B2=F2;rule f x y=F3;"
+                + "law a:f (F1 d e (E1 a b c)) g=F3;");
+        Check.due("types", x.count(0), 6);
+        Check.due("constructors", x.count(1), 16);
+        Check.due("3 to the 6th rows", x.test(0, 6, false), 1);
+        told(x, "D3", "D2", "A3", "B3", "C3", "B2");
+        Check.due("there is no seventh", x.told(6), EquationProofs.UNKNOWN);
+        Check.due("4 to the 6th rows", x.test(0, 6, true), EquationProofs.ROOM);
     }
 
     /** Values of W with so many names, in order; with _ , or without. */
