@@ -1493,10 +1493,9 @@ public final class EquationProofs {
     /** Two terms that are to be alike, and the hypotheses, two terms each, behind them. */
     private static final class Goal {
         final Term[] terms = new Term[2 + 2 * MOST_HYPOTHESES];
-        // The free variables of each hypothesis, and the goal's variables that are fixed, a bit each.
+        // The free variables of each hypothesis, a bit each.
         final long[] free = new long[MOST_HYPOTHESES];
         int hypotheses;
-        long fixed;
         int splits;
 
         Goal() {
@@ -1514,17 +1513,12 @@ public final class EquationProofs {
         /** Copies all but the two terms. */
         void copyRest(Goal from) {
             hypotheses = from.hypotheses;
-            fixed = from.fixed;
             splits = from.splits;
             for (int k = 0; k < hypotheses && k < free.length; k++) {
                 free[k] = from.free[k];
                 terms[2 + 2 * k].copy(from.terms[2 + 2 * k]);
                 terms[3 + 2 * k].copy(from.terms[3 + 2 * k]);
             }
-        }
-
-        boolean isFixed(int v) {
-            return (fixed >> v & 1) == 1;
         }
 
         long variables() {
@@ -1541,7 +1535,9 @@ public final class EquationProofs {
         int law;
         boolean full;
         int variables;
+        // A bit each: a variable is sure, or fixed, in all goals that have it.
         long sure;
+        long fixed;
 
         Proof() {
             for (int g = 0; g < goals.length; g++) {
@@ -1561,6 +1557,7 @@ public final class EquationProofs {
             open = 1;
             variables = Math.min(told.variables, MOST_VARIABLES);
             sure = forAll ? 0 : (1L << variables) - 1;
+            fixed = 0;
             for (int v = 0; v < variables && v < told.types.length; v++) {
                 types[v] = told.types[v];
             }
@@ -1568,8 +1565,11 @@ public final class EquationProofs {
             goal.terms[0].copy(told.left);
             goal.terms[1].copy(told.right);
             goal.hypotheses = 0;
-            goal.fixed = 0;
             goal.splits = 0;
+        }
+
+        boolean isFixed(int v) {
+            return (fixed >> v & 1) == 1;
         }
 
         void copy(Proof from) {
@@ -1579,6 +1579,7 @@ public final class EquationProofs {
             full = from.full;
             variables = from.variables;
             sure = from.sure;
+            fixed = from.fixed;
             for (int v = 0; v < variables && v < types.length; v++) {
                 types[v] = from.types[v];
             }
@@ -1738,13 +1739,12 @@ public final class EquationProofs {
         }
 
         int inductOver(int v) {
-            Goal goal = proof.goals[0];
-            long present = goal.variables();
-            if (v < 0 || v >= proof.variables || (present >> v & 1) == 0 || goal.isFixed(v)) {
+            long present = proof.goals[0].variables();
+            if (v < 0 || v >= proof.variables || (present >> v & 1) == 0 || proof.isFixed(v)) {
                 return WRONG;
             }
             aimAtVariable(v);
-            splitFree = present & ~goal.fixed & ~(1L << v);
+            splitFree = present & ~proof.fixed & ~(1L << v);
             inducing = true;
             newFixed = true;
             return split();
@@ -1758,7 +1758,7 @@ public final class EquationProofs {
             inducing = false;
             if (at >= 0 && Term.kindOf(code) == Term.VARIABLE && index < proof.variables) {
                 aimAtVariable(index);
-                newFixed = proof.goals[0].isFixed(index);
+                newFixed = proof.isFixed(index);
                 return split();
             }
             if (at >= 0 && Term.kindOf(code) == Term.FUNCTION && index < program.functions.count) {
@@ -1788,7 +1788,7 @@ public final class EquationProofs {
             for (int c = newSure ? 0 : -1; c < program.constructors.count; c++) {
                 if (c < 0 || program.constructors.types[c] == splitType) {
                     int after = putInstead(c, next);
-                    if (after > MOST_VARIABLES || made >= spare.length || !makeGoal(spare[made], next)) {
+                    if (after > MOST_VARIABLES || made >= spare.length || !makeGoal(spare[made])) {
                         return ROOM;
                     }
                     Goal goal = spare[made];
@@ -1807,6 +1807,12 @@ public final class EquationProofs {
             if (newSure) {
                 proof.sure |= bits(proof.variables, next);
             }
+            if (newFixed) {
+                proof.fixed |= bits(proof.variables, next);
+            }
+            if (splitVariable < 0) {
+                proof.fixed |= target.variables();
+            }
             proof.variables = next;
             return putGoals(made);
         }
@@ -1824,13 +1830,10 @@ public final class EquationProofs {
             return next + arity;
         }
 
-        private boolean makeGoal(Goal goal, int next) {
+        private boolean makeGoal(Goal goal) {
             Goal old = proof.goals[0];
             goal.copyRest(old);
             goal.splits++;
-            if (newFixed) {
-                goal.fixed |= bits(next, next + instead.size - 1);
-            }
             return goal.terms[0].copyReplacing(old.terms[0], target, instead)
                     && goal.terms[1].copyReplacing(old.terms[1], target, instead);
         }
@@ -1856,7 +1859,6 @@ public final class EquationProofs {
         }
 
         private boolean addCallHypothesis(Goal goal) {
-            goal.fixed |= target.variables();
             int k = goal.hypotheses;
             if (k >= MOST_HYPOTHESES) {
                 return false;
@@ -2007,7 +2009,7 @@ public final class EquationProofs {
                         int code = term.codeAt(rewriter.waitsAt);
                         int v = Term.indexOf(code);
                         if (Term.kindOf(code) == Term.VARIABLE) {
-                            int answer = proof.goals[0].isFixed(v) ? splitAt(side, rewriter.waitsAt) : inductOver(v);
+                            int answer = proof.isFixed(v) ? splitAt(side, rewriter.waitsAt) : inductOver(v);
                             return answer >= 0;
                         }
                     }

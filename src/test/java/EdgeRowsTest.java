@@ -24,6 +24,9 @@ public final class EdgeRowsTest {
         noPlace();
         sureVariables();
         fixedVariables();
+        fixedFromThenOn();
+        fixedInInduction();
+        notFixedByRefusal();
         fixedButFree();
         casesOfNothing();
         sameSides();
@@ -533,6 +536,81 @@ public final class EdgeRowsTest {
         Check.due("the third goal", Check.goal(x, 0), "P (S v2) v1 = P (S v2) v1");
         Check.due("a call's new variable is FIXED", x.induction(2), WRONG);
         Check.due("the call's own one, too", x.induction(1), WRONG);
+    }
+
+    private static void fixedFromThenOn() {
+        Check.sentence("If it is a call: its variables are FIXED from then on");
+        String text = "data N=Z|S N;data P=P N N;fun w:N>N;fun k:N>N>N;rule k Z y=y;rule k (S x) y=k x y;"
+                + "law a:P (k x y) (w z)=P (k x y) (w z);law b:P (w y) (k y Z)=P (w y) Z;";
+        Counted x = Check.with(text);
+        x.begin(0, false);
+        Check.due("two goals", x.parts(), 2);
+        Check.due("cases of the first one's call", x.cases(0, 0), 4);
+        for (int goals = 3; goals >= 1; goals--) {
+            x.same();
+        }
+        Check.due("a variable that the call had not", x.induction(2), 2);
+        x.begin(1, false);
+        Check.due("two goals", x.parts(), 2);
+        Check.due("the search takes an induction over y", x.search(100), 7);
+        x.begin(1, false);
+        x.parts();
+        Check.due("cases of a call with y", x.cases(0, 0), 4);
+        Check.due("the search takes cases of y, again and again", x.search(100), 0);
+        for (int goals = 3; goals >= 1; goals--) {
+            x.same();
+        }
+        Check.due("the goal beside", Check.goal(x, 0), "k v0 Z = Z");
+        Check.due("no induction over y", x.induction(0), WRONG);
+        Check.due("cases", x.cases(0, 1), 2);
+        Check.due("Z", x.unfold(0, 0), 2);
+        Check.due("is done", x.same(), 1);
+        Check.due("S of a new variable", Check.goal(x, 0), "k (S v2) Z = Z");
+        Check.due("which is FIXED as y was", x.induction(2), WRONG);
+        x.begin(1, false);
+        x.parts();
+        Check.due("a proof that begins has none FIXED", x.induction(0), 3);
+    }
+
+    private static void fixedInInduction() {
+        Check.sentence("free being all variables of the old goal that are not FIXED, but it");
+        Counted x = Check.with("data N=Z|S N;data P=P N N;fun w:N>N;fun k:N>N>N;law a:P (w y) (k x y)=P (w y) (k x y);");
+        x.begin(0, false);
+        x.parts();
+        x.same();
+        x.induction(1);
+        x.same();
+        Check.due("y is free", Check.hypothesis(x, 0), "k v2 f0 = k v2 f0");
+        x.begin(0, false);
+        x.parts();
+        x.cases(0, 0);
+        for (int goals = 3; goals >= 1; goals--) {
+            x.same();
+        }
+        x.induction(1);
+        x.same();
+        Check.due("y is FIXED since the cases", Check.hypothesis(x, 0), "k v3 v0 = k v3 v0");
+    }
+
+    private static void notFixedByRefusal() {
+        Check.sentence("What is refused changes nothing: no variable is FIXED");
+        Counted x = Check.with("data N=Z|S N;data M=A|B|C|D|E|F|G|H|I|J|K|L;fun w:N>M;law a:w x=w x;");
+        x.begin(0, false);
+        Check.due("thirteen goals are too many", x.cases(0, 0), EquationProofs.ROOM);
+        Check.due("x is not FIXED", x.induction(0), 2);
+        Check.sentence("else 0, and the proof is as it was: no variable is FIXED");
+        x = Check.with("data N=Z|S N;fun k:N>N;rule k Z=Z;rule k (S x)=k x;law a:k x=S Z;");
+        x.begin(0, false);
+        Check.due("the search makes FIXED variables", x.search(100), 0);
+        Check.due("cases", x.cases(0, 1), 2);
+        x.search(100);
+        Check.due("their second goal", Check.goal(x, 1), "k (S v1) = S Z");
+        x = Check.with("data N=S N|Z;fun k:N>N;rule k Z=Z;rule k (S x)=k x;law a:k x=S Z;");
+        x.begin(0, false);
+        x.search(100);
+        x.cases(0, 1);
+        Check.due("the first goal", Check.goal(x, 0), "k (S v1) = S Z");
+        Check.due("the new variable has a number that the search used, and is not FIXED", x.induction(1), 3);
     }
 
     private static void fixedButFree() {

@@ -24,7 +24,7 @@ public final class RowsTest {
         sureHypotheses();
         casesOfVariables();
         casesOfCalls();
-        fixedOfOneGoal();
+        fixedFromThenOn();
         sameAndParts();
         refusals();
         Check.finish();
@@ -484,8 +484,8 @@ public final class RowsTest {
         goal(x, 0, "Z = Z");
     }
 
-    /** What cases of a call fix is fixed in the goals that come of them, not in those beside them. */
-    private static void fixedOfOneGoal() {
+    /** What cases of a call fix is fixed from then on: in the goals beside those that come of them, too. */
+    private static void fixedFromThenOn() {
         Counted x = Check.with("data N=Z|S N;data P=P N N;fun w:N>N;law a:P (w x) (w x)=P (w x) (w x);");
         x.begin(0, false);
         Check.due("parts", x.parts(), 2);
@@ -493,7 +493,8 @@ public final class RowsTest {
         for (int goals = 3; goals >= 1; goals--) {
             Check.due("same", x.same(), goals);
         }
-        Check.due("the second has its variable free", x.induction(0), 2);
+        Check.due("no induction over it in the second one", x.induction(0), WRONG);
+        Check.due("but its cases", x.cases(0, 1), 2);
     }
 
     private static void sameAndParts() {
