@@ -25,6 +25,7 @@ public final class EdgeRowsTest {
         sureVariables();
         fixedVariables();
         fixedFromThenOn();
+        notFixedBeside();
         fixedInInduction();
         notFixedByRefusal();
         fixedButFree();
@@ -570,6 +571,23 @@ public final class EdgeRowsTest {
         x.begin(1, false);
         x.parts();
         Check.due("a proof that begins has none FIXED", x.induction(0), 3);
+    }
+
+    private static void notFixedBeside() {
+        Check.sentence("INDUCTION, CASES of a variable: it is FIXED in no other goal");
+        Counted x = Check.with("data N=Z|S N;data P=P N N;fun w:N>N;law a:P (w y) (w y)=P (w y) (w y);");
+        x.begin(0, false);
+        x.parts();
+        Check.due("induction in the first goal", x.induction(0), 3);
+        x.same();
+        x.same();
+        Check.due("induction in the second", x.induction(0), 2);
+        x.begin(0, false);
+        x.parts();
+        Check.due("cases in the first goal", x.cases(0, 1), 3);
+        x.same();
+        x.same();
+        Check.due("induction in the second", x.induction(0), 2);
     }
 
     private static void fixedInInduction() {
